@@ -200,10 +200,10 @@ public final class StatuteHouse {
     public StatuteHouse() {
         calendar = new Calendar();
         names = new Names();
-        people = new People(names);
+        Values values = new Values(calendar);
+        people = new People(names, values);
         laws = new Laws();
         tape = new Tape();
-        Values values = new Values(calendar);
         reader = new Reader(tape, names, people, laws, calendar);
         reckoner = new Reckoner(names, people, laws, values);
         ledger = new Ledger(calendar, reckoner);
@@ -465,7 +465,7 @@ public final class StatuteHouse {
         if (!people.isThere(person) || !names.isTermOf(term, MONEY)) {
             return NONE;
         }
-        return areFirsts(first, months, 24) ? ledger.takeDecision(person, term, first, months) : RANGE;
+        return areFirsts(first, months, Ledger.MOST_DECIDED) ? ledger.takeDecision(person, term, first, months) : RANGE;
     }
 
     public int object(int decision) {
@@ -1778,6 +1778,7 @@ public final class StatuteHouse {
         private static final int BEFORE = 5;
 
         private final Names names;
+        private final Values values;
         int size = 1;
         final double[] weights = new double[MOST_PEOPLE];
         int records;
@@ -1796,8 +1797,9 @@ public final class StatuteHouse {
         long a;
         long b;
 
-        People(Names names) {
+        People(Names names, Values values) {
             this.names = names;
+            this.values = values;
             Arrays.fill(weights, 1.0);
             Arrays.fill(latest, NONE);
         }
@@ -1855,19 +1857,10 @@ public final class StatuteHouse {
             if (over < -MOST_MONEY || over > MOST_MONEY || under < 1 || under > MOST_MONEY) {
                 return false;
             }
-            long x = Math.abs(over);
-            long y = under;
-            for (int i = 0; i < 100 && y != 0; i++) {
-                long rest = x % y;
-                x = y;
-                y = rest;
-            }
-            if (x == 0) {
-                return false;
-            }
-            a = over / x;
-            b = under / x;
-            return Math.abs(a) <= MOST_OF_RATE && b <= MOST_OF_RATE;
+            boolean fine = values.setRate(over, under) == 0;
+            a = values.a;
+            b = values.b;
+            return fine;
         }
 
         boolean isFull(int person, int name) {
@@ -1993,6 +1986,7 @@ public final class StatuteHouse {
         static final int MOST_IN_ARTICLE = 40;
         private static final int MOST_HEIGHT = 16;
         private static final int MOST_ANNULMENTS = 40;
+        private static final int TABLES = 4;
 
         final int[][] part = new int[7][MOST_PARTS];
         final long[][] constant = new long[2][MOST_PARTS];
@@ -2017,6 +2011,15 @@ public final class StatuteHouse {
         int annulments;
         /** Another number whenever something is told, so that what was found in force is known to be out of date. */
         int stamp;
+        /** What was found in force lately, as one call asks for the same DAYS again and again. */
+        private final Force[] tables = new Force[TABLES];
+        private int tableTurn;
+
+        Laws() {
+            for (int i = 0; i < TABLES; i++) {
+                tables[i] = new Force();
+            }
+        }
 
         static boolean isLaw(int law) {
             return law >= 0 && law < LAWS;
@@ -2173,6 +2176,20 @@ public final class StatuteHouse {
                     range[1] = Math.min(range[1], from - 1);
                 }
             }
+        }
+
+        /** What is in force in a LAW on a DAY as known on one. */
+        Force tableOf(int law, int day, int known) {
+            for (int i = 0; i < TABLES; i++) {
+                if (tables[i].fits(this, law, day, known)) {
+                    return tables[i];
+                }
+            }
+            Force table = tables[tableTurn];
+            tableTurn = (tableTurn + 1) % TABLES;
+            table.build(this, law, day, known);
+            table.link(this);
+            return table;
         }
 
         boolean isAnnulled(int rule, int day, int known) {
@@ -3470,7 +3487,6 @@ public final class StatuteHouse {
         private static final int MOST_FIRSTS = 60;
         private static final int MOST_FRAMES = 320;
         private static final int MOST_TURNS = 1000000;
-        private static final int TABLES = 4;
         /** Sorts of frames beside those of PARTS, which have their codes. */
         private static final int OF_TERM = -1;
         private static final int OF_RULE = -2;
@@ -3504,8 +3520,6 @@ public final class StatuteHouse {
         private final People people;
         private final Laws laws;
         private final Values values;
-        private final Force[] tables = new Force[TABLES];
-        private int tableTurn;
         private final int[][] frame = new int[MOST_FRAMES][9];
         private final long[][] held = new long[MOST_FRAMES][4];
         private int top;
@@ -3530,10 +3544,9 @@ public final class StatuteHouse {
             this.people = people;
             this.laws = laws;
             this.values = values;
-            for (int i = 0; i < TABLES; i++) {
-                tables[i] = new Force();
-            }
-            Arrays.fill(failure, 1, 5, NONE);
+            Arrays.fill(failure, NONE);
+            failure[0] = 0;
+            failure[5] = 0;
         }
 
         /** Ahead of all reckonings of a call. */
@@ -3612,25 +3625,11 @@ public final class StatuteHouse {
             termsOpen = 0;
         }
 
-        /** What is in force in a LAW on a DAY as known on one. */
-        Force tableOf(int ofLaw, int day, int knownOn) {
-            for (int i = 0; i < TABLES; i++) {
-                if (tables[i].fits(laws, ofLaw, day, knownOn)) {
-                    return tables[i];
-                }
-            }
-            Force table = tables[tableTurn];
-            tableTurn = (tableTurn + 1) % TABLES;
-            table.build(laws, ofLaw, day, knownOn);
-            table.link(laws);
-            return table;
-        }
-
         /** The FAULT, with the innermost TERM that is open and the innermost RULE of it. */
         void raise(int what) {
             fault = what;
+            Arrays.fill(failure, NONE);
             failure[0] = what;
-            Arrays.fill(failure, 1, 5, NONE);
             failure[5] = 0;
             for (int i = top - 1; i >= 0; i--) {
                 int[] f = frame[i];
@@ -3789,7 +3788,7 @@ public final class StatuteHouse {
         }
 
         private void resumeTerm(int[] f, long[] h) {
-            Force table = tableOf(law, f[ON_DAY], known);
+            Force table = laws.tableOf(law, f[ON_DAY], known);
             int term = f[WHAT];
             int next;
             if (f[STAGE] == 0) {
@@ -3835,7 +3834,7 @@ public final class StatuteHouse {
         }
 
         private void resumeRule(int[] f, long[] h) {
-            Force table = tableOf(law, f[ON_DAY], known);
+            Force table = laws.tableOf(law, f[ON_DAY], known);
             int rule = table.rule[f[WHAT]];
             if (f[STAGE] == 3) {
                 endRule(f, rule);
@@ -4070,7 +4069,7 @@ public final class StatuteHouse {
                 begin(laws.part[LEFT][part], f[SELF], f[ON_DAY]);
                 return;
             }
-            Force table = tableOf(law, f[ON_DAY], known);
+            Force table = laws.tableOf(law, f[ON_DAY], known);
             int found = table.first[laws.part[NAMED][part]];
             if (found < 0) {
                 raise(F_NONE);
@@ -4132,7 +4131,7 @@ public final class StatuteHouse {
     /** DECISIONS and BOOKINGS, what is paid and reminded of. */
     private static final class Ledger {
         private static final int MOST_DECISIONS = 30;
-        private static final int MOST_MONTHS = 24;
+        static final int MOST_DECIDED = 24;
         private static final int MOST_BOOKINGS = 400;
         private static final int MOST_REMINDERS = 3;
         private static final int PAUSE = 14;
@@ -4168,9 +4167,9 @@ public final class StatuteHouse {
         private final Calendar calendar;
         private final Reckoner reckoner;
         final int[][] decision = new int[7][MOST_DECISIONS];
-        final long[][] amounts = new long[MOST_DECISIONS][MOST_MONTHS];
+        final long[][] amounts = new long[MOST_DECISIONS][MOST_DECIDED];
         /** DUE of each month's first BOOKING. */
-        private final int[][] firstDue = new int[MOST_DECISIONS][MOST_MONTHS];
+        private final int[][] firstDue = new int[MOST_DECISIONS][MOST_DECIDED];
         int decisions;
         private final long[][] booked = new long[10][MOST_BOOKINGS];
         int bookings;
@@ -4181,9 +4180,9 @@ public final class StatuteHouse {
         int fee = 500;
         int bar = 60;
         /** What is reckoned month by month, till it is known that all goes well. */
-        private final long[] fresh = new long[MOST_MONTHS];
-        private final long[] interest = new long[MOST_MONTHS];
-        private final int[] dues = new int[MOST_MONTHS];
+        private final long[] fresh = new long[MOST_DECIDED];
+        private final long[] interest = new long[MOST_DECIDED];
+        private final int[] dues = new int[MOST_DECIDED];
 
         Ledger(Calendar calendar, Reckoner reckoner) {
             this.calendar = calendar;
@@ -4631,7 +4630,7 @@ public final class StatuteHouse {
         }
 
         int findGaps(int law, int term, int day, int today) {
-            Force table = reckoner.tableOf(law, day, today);
+            Force table = laws.tableOf(law, day, today);
             int many = 0;
             atoms = 0;
             for (int i = 0; i < table.size; i++) {
@@ -4735,7 +4734,7 @@ public final class StatuteHouse {
         }
 
         int findRing(int law, int day, int today) {
-            Force table = reckoner.tableOf(law, day, today);
+            Force table = laws.tableOf(law, day, today);
             Arrays.fill(reach, 0L);
             for (int i = 0; i < table.size; i++) {
                 int rule = table.rule[i];
