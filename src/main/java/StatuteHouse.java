@@ -873,7 +873,7 @@ public final class StatuteHouse {
             return Math.abs(months) <= MOST_MONTHS && Math.abs(days) <= LAST_DAY;
         }
 
-        private static boolean isExact(int kind) {
+        private static boolean isFraction(int kind) {
             return kind == COUNT || kind == RATE;
         }
 
@@ -914,7 +914,7 @@ public final class StatuteHouse {
                 case W_WORKING:
                     return kind == DATE ? TRUTH : NONE;
                 case W_REAL:
-                    return isExact(kind) || kind == MONEY ? REAL : NONE;
+                    return isFraction(kind) || kind == MONEY ? REAL : NONE;
                 case W_ROOT:
                     return kind == REAL ? REAL : NONE;
                 case W_CENTS:
@@ -929,7 +929,7 @@ public final class StatuteHouse {
         /** The KIND of a PART over two, NONE if there is none such. */
         static int kindOfTwo(int op, int left, int right) {
             boolean alike = left == right;
-            boolean exact = isExact(left) && isExact(right);
+            boolean exact = isFraction(left) && isFraction(right);
             switch (op) {
                 case W_OR:
                 case W_AND:
@@ -980,26 +980,26 @@ public final class StatuteHouse {
             if (left == right) {
                 return isSummed(left) || left == SPAN ? left : NONE;
             }
-            return isExact(left) && isExact(right) ? RATE : NONE;
+            return isFraction(left) && isFraction(right) ? RATE : NONE;
         }
 
         private static int kindOfProduct(int op, int left, int right) {
             if (op == W_REM) {
                 return left == right && isSummed(left) && left != RATE ? left : NONE;
             }
-            if (isExact(left) && isExact(right)) {
+            if (isFraction(left) && isFraction(right)) {
                 return op == '*' && left == right ? left : RATE;
             }
             if (left == REAL || right == REAL) {
                 return left == right ? REAL : NONE;
             }
-            if (left == MONEY && isExact(right)) {
+            if (left == MONEY && isFraction(right)) {
                 return MONEY;
             }
             if (op == '/') {
                 return left == MONEY && right == MONEY ? RATE : NONE;
             }
-            if (right == MONEY && isExact(left)) {
+            if (right == MONEY && isFraction(left)) {
                 return MONEY;
             }
             return left == SPAN && right == COUNT || left == COUNT && right == SPAN ? SPAN : NONE;
