@@ -2386,6 +2386,16 @@ public final class StatuteHouse {
         private static final int RULES = 1;
         private static final int EX_OF_IS = 2;
         private static final int EX_OF_WHEN = 3;
+        /** How tightly operators bind. */
+        private static final int OR_RANK = 1;
+        private static final int AND_RANK = 2;
+        private static final int NOT_RANK = 3;
+        private static final int COMPARE_RANK = 4;
+        private static final int SUM_RANK = 5;
+        private static final int PRODUCT_RANK = 6;
+        private static final int MINUS_RANK = 7;
+        private static final int ON_RANK = 8;
+        private static final int OF_RANK = 9;
         /** How a step through an ex went. */
         private static final int GOING = 0;
         private static final int DONE = 1;
@@ -2630,6 +2640,7 @@ public final class StatuteHouse {
             int most;
             switch (tape.here()) {
                 case '%':
+                    // number / 100 in its lowest terms: the greatest that divides both
                     most = 10000;
                     int shared = 100;
                     while (shared > 1 && (number % shared != 0 || 100 % shared != 0)) {
@@ -2669,8 +2680,6 @@ public final class StatuteHouse {
         }
 
         private boolean readHoliday(int at) {
-            boolean full = at >= Calendar.MOST_HOLIDAYS;
-            int to = full ? 0 : at;
             int word = tape.here();
             if (word == NUMBER) {
                 if (tape.numberHere() < 1 || tape.numberHere() > 31) {
@@ -2679,30 +2688,30 @@ public final class StatuteHouse {
             } else if (word != W_EASTER && word != W_FIRST && word != W_LAST) {
                 return tape.failSyntax();
             }
-            if (full) {
+            if (at >= Calendar.MOST_HOLIDAYS) {
                 return tape.failHere(T_ROOM);
             }
             int number = (int) tape.numberHere();
-            calendar.told[1][to] = number;
-            calendar.told[2][to] = 1;
+            calendar.told[1][at] = number;
+            calendar.told[2][at] = 1;
             if (!tape.take()) {
                 return false;
             }
             boolean fine;
             switch (word) {
                 case NUMBER:
-                    calendar.told[0][to] = Calendar.FIXED;
-                    fine = readMonthWith(to, number);
+                    calendar.told[0][at] = Calendar.FIXED;
+                    fine = readMonthWith(at, number);
                     break;
                 case W_EASTER:
-                    calendar.told[0][to] = Calendar.EASTER;
-                    fine = readFromEaster(to);
+                    calendar.told[0][at] = Calendar.EASTER;
+                    fine = readFromEaster(at);
                     break;
                 default:
-                    calendar.told[0][to] = word == W_FIRST ? Calendar.FIRST_OF : Calendar.LAST_OF;
-                    calendar.told[1][to] = weekdayOf(tape.here());
-                    fine = calendar.told[1][to] < 0 ? tape.failSyntax()
-                            : tape.take() && tape.expect(W_OF) && readMonthWith(to, 1);
+                    calendar.told[0][at] = word == W_FIRST ? Calendar.FIRST_OF : Calendar.LAST_OF;
+                    calendar.told[1][at] = weekdayOf(tape.here());
+                    fine = calendar.told[1][at] < 0 ? tape.failSyntax()
+                            : tape.take() && tape.expect(W_OF) && readMonthWith(at, 1);
                     break;
             }
             return fine && tape.expect(';');
@@ -2790,10 +2799,8 @@ public final class StatuteHouse {
             }
             boolean withdrawn = tape.here() == W_WITHDRAWN;
             setConstant(TRUTH, 0, 0);
-            if (withdrawn ? !tape.take() : !(tape.expect(W_IS) && readFactValue(names.kind[name]))) {
-                return false;
-            }
-            if (!readDay(W_FROM, 0, 0)) {
+            boolean fine = withdrawn ? tape.take() : tape.expect(W_IS) && readFactValue(names.kind[name]);
+            if (!fine || !readDay(W_FROM, 0, 0)) {
                 return false;
             }
             int from = day;
@@ -3008,8 +3015,8 @@ public final class StatuteHouse {
         private boolean endEx() {
             int found = whole[0];
             boolean ofIs = state == EX_OF_IS;
-            int wanted = ofIs ? names.kind[laws.rule[OF_NAME][laws.rules]] : TRUTH;
-            if (laws.part[KIND][found] != wanted) {
+            int kind = ofIs ? names.kind[laws.rule[OF_NAME][laws.rules]] : TRUTH;
+            if (laws.part[KIND][found] != kind) {
                 return tape.fail(T_KIND, exPlace);
             }
             laws.rule[ofIs ? EX : WHEN][laws.rules] = found;
@@ -3071,7 +3078,10 @@ public final class StatuteHouse {
             int place = tape.placeHere();
             if (tape.here() == MONEYS) {
                 setConstant(MONEY, tape.numberHere(), 0);
-                if (constantA > MOST_IN_ROW ? !tape.failHere(T_RANGE) : !tape.take()) {
+                if (constantA > MOST_IN_ROW) {
+                    return tape.failHere(T_RANGE);
+                }
+                if (!tape.take()) {
                     return false;
                 }
             } else if (tape.here() != NUMBER) {
@@ -3129,7 +3139,7 @@ public final class StatuteHouse {
             }
             if (rank > 0 && mayFollow(rank)) {
                 wanted = true;
-                return pushOperator(code, rank) ? GOING : REFUSED;
+                return push(code, tape.placeHere(), code == W_OF || code == W_ON) ? GOING : REFUSED;
             }
             if (!combine(0)) {
                 return REFUSED;
@@ -3146,31 +3156,31 @@ public final class StatuteHouse {
         private static int rankOf(int code) {
             switch (code) {
                 case W_OR:
-                    return 1;
+                    return OR_RANK;
                 case W_AND:
-                    return 2;
+                    return AND_RANK;
                 case W_NOT:
-                    return 3;
+                    return NOT_RANK;
                 case '=':
                 case '#':
                 case '<':
                 case '>':
                 case AT_MOST:
                 case AT_LEAST:
-                    return 4;
+                    return COMPARE_RANK;
                 case '+':
                 case '-':
-                    return 5;
+                    return SUM_RANK;
                 case '*':
                 case '/':
                 case W_REM:
-                    return 6;
+                    return PRODUCT_RANK;
                 case MINUS:
-                    return 7;
+                    return MINUS_RANK;
                 case W_ON:
-                    return 8;
+                    return ON_RANK;
                 case W_OF:
-                    return 9;
+                    return OF_RANK;
                 default:
                     return 0;
             }
@@ -3182,14 +3192,14 @@ public final class StatuteHouse {
 
         /** Comparisons and "on" stand alone among their like. */
         private boolean mayFollow(int rank) {
-            return topRank() != rank || rank != 4 && rank != 8;
+            return topRank() != rank || rank != COMPARE_RANK && rank != ON_RANK;
         }
 
         /** Makes PARTS of the operators on top that a TOKEN of a rank leaves whole. */
         private boolean combine(int rank) {
             for (int turn = 0; turn <= Tape.MOST_TOKENS; turn++) {
                 int top = topRank();
-                boolean chained = rank == 1 || rank == 2 || rank == 5 || rank == 6;
+                boolean chained = rank <= AND_RANK || rank == SUM_RANK || rank == PRODUCT_RANK;
                 if (top < rank || top == rank && !chained || top == 0) {
                     return true;
                 }
@@ -3231,32 +3241,18 @@ public final class StatuteHouse {
             return true;
         }
 
-        private boolean pushOperator(int code, int rank) {
-            if (rank >= 8) {
-                if (open >= MOST_OPEN) {
-                    return tape.failHere(T_ROOM);
-                }
-                open++;
-            }
-            return push(code, tape.placeHere(), NONE) && tape.take();
-        }
-
-        private boolean push(int code, int place, int named) {
-            op[CODE][ops] = code;
-            op[PLACE][ops] = place;
-            op[WITH_NAME][ops] = named;
-            op[COMMAS][ops] = 0;
-            ops++;
-            return true;
-        }
-
-        /** Something that is opened by the TOKEN that is here. */
-        private boolean pushOpen(int code, int place, int named) {
-            if (open >= MOST_OPEN) {
+        /** Something that waits behind the TOKEN which is here till it is whole; most of it counts as open. */
+        private boolean push(int code, int place, boolean opens) {
+            if (opens && open >= MOST_OPEN) {
                 return tape.failHere(T_ROOM);
             }
-            open++;
-            return push(code, place, named) && tape.take();
+            open += opens ? 1 : 0;
+            op[CODE][ops] = code;
+            op[PLACE][ops] = place;
+            op[WITH_NAME][ops] = NONE;
+            op[COMMAS][ops] = 0;
+            ops++;
+            return tape.take();
         }
 
         /** What an operand begins with; when it is whole at once it is one more of the wholes. */
@@ -3266,11 +3262,11 @@ public final class StatuteHouse {
             int top = topRank();
             switch (code) {
                 case W_NOT:
-                    return top > 3 ? tape.failSyntax() : pushOpen(W_NOT, place, NONE);
+                    return top > NOT_RANK ? tape.failSyntax() : push(W_NOT, place, true);
                 case '-':
-                    return top > 7 ? tape.failSyntax() : pushOpen(MINUS, place, NONE);
+                    return top > MINUS_RANK ? tape.failSyntax() : push(MINUS, place, true);
                 case '(':
-                    return pushOpen('(', place, NONE);
+                    return push('(', place, true);
                 case NUMBER:
                 case MONEYS:
                 case DATES:
@@ -3294,7 +3290,7 @@ public final class StatuteHouse {
                     if (arityOf(code) == 0) {
                         return tape.failSyntax();
                     }
-                    return tape.take() && (tape.here() == '(' ? pushOpen(code, place, NONE) : tape.failSyntax());
+                    return tape.take() && (tape.here() == '(' ? push(code, place, true) : tape.failSyntax());
             }
         }
 
@@ -3344,7 +3340,7 @@ public final class StatuteHouse {
             if (tape.here() != '(') {
                 return tape.failSyntax();
             }
-            if (!pushOpen(code, place, NONE)) {
+            if (!push(code, place, true)) {
                 return false;
             }
             if (tape.here() != WORD) {
