@@ -1077,12 +1077,15 @@ public final class StatuteHouse {
             return Math.abs(a) > MOST_OF_RATE || b > MOST_OF_RATE ? F_OVER : 0;
         }
 
-        /** The bits of a number: it is brought between 2^52 and 2^53 by steps that are exact. */
-        int setReal(double number) {
+        /**
+         * The bits of a number: it is brought between 2^52 and 2^53 by steps that are exact. A 0 does not show its
+         * sign when it is compared, so it takes that of the last bits told.
+         */
+        int setReal(double number, long signOfZero) {
             if (number > 1.7976931348623157E308 || number < -1.7976931348623157E308) {
                 return F_NOREAL;
             }
-            boolean below = number < 0.0 || number == 0.0 && 1.0 / number < 0.0;
+            boolean below = number < 0.0 || number == 0.0 && signOfZero < 0;
             double x = below ? number * -1.0 : number;
             int power = 0;
             for (int i = 0; i < 40 && x >= 9671406556917033397649408.0; i++) {
@@ -1239,7 +1242,7 @@ public final class StatuteHouse {
         int plus(int lk, long la, long lb, int rk, long ra, long rb) {
             switch (lk) {
                 case REAL:
-                    return setReal(realOf(la) + realOf(ra));
+                    return setReal(realOf(la) + realOf(ra), la & ra);
                 case MONEY:
                     return setMoney(la + ra);
                 case SPAN:
@@ -1257,7 +1260,7 @@ public final class StatuteHouse {
 
         private int times(int lk, long la, long lb, int rk, long ra, long rb) {
             if (lk == REAL) {
-                return setReal(realOf(la) * realOf(ra));
+                return setReal(realOf(la) * realOf(ra), la ^ ra);
             }
             if (lk == MONEY || rk == MONEY) {
                 long cents = lk == MONEY ? la : ra;
@@ -1284,7 +1287,7 @@ public final class StatuteHouse {
         private int divide(int lk, long la, long lb, int rk, long ra, long rb) {
             if (rk == REAL) {
                 double by = realOf(ra);
-                return by == 0.0 ? F_ZERO : setReal(realOf(la) / by);
+                return by == 0.0 ? F_ZERO : setReal(realOf(la) / by, la ^ ra);
             }
             if (ra == 0) {
                 return F_ZERO;
@@ -1346,7 +1349,7 @@ public final class StatuteHouse {
                     b = lb;
                     return below ? negate(kind, la, lb) : 0;
                 case W_REAL:
-                    return setReal(kind == MONEY ? la / 100.0 : kind == RATE ? (double) la / (double) lb : la);
+                    return setReal(kind == MONEY ? la / 100.0 : kind == RATE ? (double) la / (double) lb : la, 0);
                 case W_ROOT:
                     a = rootOf(la);
                     b = 0;
@@ -2229,7 +2232,7 @@ public final class StatuteHouse {
         }
 
         /** Whether two PARTS are written alike; they are at most MOST_HEIGHT high. */
-        boolean areAlike(int one, int other) {
+        private boolean areAlike(int one, int other) {
             if (one < 0 || other < 0 || one == other) {
                 return one == other;
             }
@@ -2261,7 +2264,7 @@ public final class StatuteHouse {
         }
 
         /** The TERMS, as bits, that a PART names for the PERSON and on the DAY for which it is worked out itself. */
-        long termsIn(int at) {
+        private long termsIn(int at) {
             if (at < 0) {
                 return 0;
             }
@@ -4578,7 +4581,7 @@ public final class StatuteHouse {
                     measures[11] += mine[i] - theirs[i];
                 }
             }
-            values.setReal(sum / weights);
+            values.setReal(sum / weights, 0);
             measures[6] = values.a;
         }
 
@@ -4602,7 +4605,7 @@ public final class StatuteHouse {
             measures[4] = mine[many - 1];
             measures[5] = mine[(many - 1) / 2];
             if (measures[2] > 0) {
-                values.setReal((double) apart / (double) many / (double) measures[2]);
+                values.setReal((double) apart / (double) many / (double) measures[2], 0);
                 measures[7] = values.a;
             }
         }
