@@ -52,8 +52,13 @@ final class Check {
         asked++;
         if (got != want) {
             wrong++;
-            System.out.println(what + ": answered " + got + ", due is " + want);
+            System.out.println(tail(what) + ": answered " + got + ", due is " + want);
         }
+    }
+
+    /** The end of a long text, as that is what tells it from others. */
+    private static String tail(String what) {
+        return what.length() <= 160 ? what : ".. " + what.substring(what.length() - 150);
     }
 
     void feed(String text) {
