@@ -24,7 +24,22 @@ final class Seen {
 
     /** As above, but for the FAULT of the latest text and THE TAPE, which a text that is refused changes, too. */
     static List<String> behindText(StatuteHouse house) {
-        return of(house).subList(2, of(house).size());
+        return without(of(house), "fault ", "tape ");
+    }
+
+    /** The rows but for those that begin so. */
+    static List<String> without(List<String> rows, String... beginnings) {
+        List<String> left = new ArrayList<>();
+        for (String row : rows) {
+            boolean leave = false;
+            for (String beginning : beginnings) {
+                leave |= row.startsWith(beginning);
+            }
+            if (!leave) {
+                left.add(row);
+            }
+        }
+        return left;
     }
 
     /** What calls tell that change OUT, REASONS and the like: laws as they stand, what is told of PEOPLE, HOLIDAYS. */
