@@ -357,6 +357,12 @@ public final class DecisionBoundsTest {
         CHECK.due("decide", house.decide(1, Check.TAX, TODAY, 1), 0);
         CHECK.due("pass", house.pass(LAST), 1);
         CHECK.due("nothing open is not barred", house.booking(0, 9), 0);
+        house = house();
+        pay(100, 0, LAST);
+        CHECK.due("decide", house.decide(1, Check.TAX, TODAY, 1), 0);
+        CHECK.due("all but a cent", house.pay(1, 99), 0);
+        CHECK.due("pass", house.pass(LAST), 1);
+        CHECK.due("a cent is barred", house.booking(0, 9), 1);
     }
 
     private static void barsByReminders() {
@@ -487,6 +493,32 @@ public final class DecisionBoundsTest {
         CHECK.due("none at all", house.decide(1, Check.TAX, TODAY, 1), FULL);
         CHECK.due("no change needs no room", house.revise(0), 0);
         interestNeedsRoom();
+        whatIsNotBookedNeedsNone();
+    }
+
+    /** Of a FINAL one what is less is no change, also if the difference were OVER or there is no room. */
+    private static void whatIsNotBookedNeedsNone() {
+        StatuteHouse house = house();
+        pay(1, 0, LAST);
+        for (int i = 0; i < 16; i++) {
+            CHECK.due("decide", house.decide(1, Check.TAX, TODAY, 24), i);
+        }
+        CHECK.due("decide", house.decide(1, Check.TAX, TODAY, 16), 16);
+        CHECK.due("pass", house.pass(Check.day(2000, 6, 1)), 17);
+        CHECK.due("late months that stay", house.revise(16), 0);
+        pay(-MOST, 0, LAST);
+        CHECK.due("months that would be less", house.revise(16), 0);
+        CHECK.due("they stay", house.amount(16, 15), 1);
+        CHECK.due("no fault", house.failed(0), 0);
+        house = house();
+        pay(1, 0, LAST);
+        CHECK.due("decide", house.decide(1, Check.TAX, TODAY, 1), 0);
+        pay(-MOST, 0, LAST);
+        CHECK.due("an open one", house.revise(0), -18);
+        CHECK.due("object", house.object(0), 1);
+        CHECK.due("an objected one", house.answer(0, true), -18);
+        CHECK.due("not granted", house.answer(0, false), 0);
+        CHECK.due("a final one", house.revise(0), 0);
     }
 
     private static void interestNeedsRoom() {

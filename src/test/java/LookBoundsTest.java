@@ -23,6 +23,9 @@ public final class LookBoundsTest {
         longWritings();
         constantsAsWritten();
         differences();
+        alikeAsWritten();
+        otherAsWritten();
+        forkedVersions();
         counts();
         CHECK.end("LookBoundsTest");
     }
@@ -396,6 +399,94 @@ public final class LookBoundsTest {
         CHECK.due("without rules and not in force are alike", CHECK.enact(2, "article 7 {}"), 1);
         CHECK.due("no difference", house.differ(2, TODAY, TODAY, 3, TODAY, TODAY), 0);
         CHECK.due("as known", house.differ(0, TODAY, TODAY, 0, TODAY, TODAY - 1), 30);
+    }
+
+    /** RULES of one article in two LAWS: whether it differs, and whether they are one ATOM as conditions. */
+    private static void differ(String one, String other, int want) {
+        CHECK.furnished(1);
+        CHECK.due(one, CHECK.enact(0, "article 1 {" + one + "}"), 1);
+        CHECK.due(other, CHECK.enact(2, "article 1 {" + other + "}"), 1);
+        CHECK.due(one + " / " + other, CHECK.house.differ(0, TODAY, TODAY, 2, TODAY, TODAY), want);
+        CHECK.due(other + " / " + one, CHECK.house.differ(2, TODAY, TODAY, 0, TODAY, TODAY), want);
+        CHECK.due(one + " as itself", CHECK.house.differ(0, TODAY, TODAY, 0, TODAY, TODAY), 0);
+        int size = CHECK.house.write(0, TODAY, TODAY);
+        String written = CHECK.out(size);
+        size = CHECK.house.write(2, TODAY, TODAY);
+        CHECK.due("as written: " + one + " / " + other, written.equals(CHECK.out(size)) ? 0 : 1, want);
+    }
+
+    private static void alikeAsWritten() {
+        String[][] alike = {
+            {"kids is 1;", "kids is (01);"}, {"kids is 1 + 2 + 3;", "kids is (1 + 2) + 3;"}, {"notice is 1 years;", "notice is 12 months;"},
+            {"notice is 0 months;", "notice is 0 days;"}, {"tax is 1.00;", "tax is 0001.00;"}, {"share is 5%;", "share is 05 %;"},
+            {"yes is not (true and false);", "yes is not (true and (false));"}, {"void;", "void;"}, {"", ""},
+            {"table fees { 1.00: 2.00; }", "table fees { 01.00: 02.00; }"}, {"except 1 a/1: kids is 1;", "except 01a/01: kids is 1;"},
+            {"kids is 1 when true; void;", "kids is 1 when (true); void;"},
+        };
+        for (String[] pair : alike) {
+            differ(pair[0], pair[1], 0);
+        }
+    }
+
+    private static void otherAsWritten() {
+        String[][] others = {
+            {"kids is 1;", "kids is 2;"}, {"kids is 1;", "kids is 1; void;"}, {"kids is 1; void;", "void; kids is 1;"},
+            {"kids is 1;", "void;"}, {"void;", ""}, {"kids is 1;", "kids is 1 when true;"}, {"kids is 1 when true;", "kids is 1 when false;"},
+            {"tax is 1.00;", "whole_tax is 1.00;"}, {"kids is 1;", "except 1/1: kids is 1;"},
+            {"except 1/1: kids is 1;", "except 2/1: kids is 1;"}, {"except 1/1: kids is 1;", "except 1a/1: kids is 1;"},
+            {"except 1/1: kids is 1;", "except 1/2: kids is 1;"}, {"kids is 1 + 2;", "kids is 2 + 1;"}, {"kids is 1 + 2;", "kids is 1 - 2;"},
+            {"kids is 1 + 2;", "kids is 1 + 3;"}, {"kids is 1 + (2 + 3);", "kids is 1 + 2 + 3;"}, {"kids is n;", "kids is kids;"},
+            {"kids is - 1;", "kids is 1;"}, {"share is 1%;", "share is 2%;"}, {"share is 100%;", "share is 1 / 1;"},
+            {"notice is 1 months;", "notice is 1 days;"}, {"notice is 2 days;", "notice is 1 days;"}, {"when_due is day;", "when_due is 2000-01-01;"},
+            {"when_due is 2000-01-02;", "when_due is 2000-01-01;"}, {"tax is 1.00;", "tax is 1.01;"}, {"head is self;", "head is state;"},
+            {"kids is n of parent;", "kids is n of mate;"}, {"kids is n on day;", "kids is n of self;"},
+            {"kids is if(true, 1, 2);", "kids is if(true, 1, 3);"}, {"kids is if(true, 1, 2);", "kids is if(true, 3, 2);"},
+            {"kids is if(true, 1, 2);", "kids is if(false, 1, 2);"}, {"kids is least(1, 2);", "kids is most(1, 2);"},
+            {"kids is sum(1, parent);", "kids is sum(1, mate);"}, {"kids is sum(1, parent);", "kids is sum(1, together);"},
+            {"kids is greatest(1, parent);", "kids is smallest(1, parent);"}, {"yes is has(n);", "yes is has(pay);"},
+            {"kids is over(1, day, day);", "kids is over(1, day, day + 1 days);"}, {"yes is 1 < 2;", "yes is 1 <= 2;"},
+            {"tax is level(fees, 1.00);", "tax is between(fees, 1.00);"}, {"tax is level(fees, 1.00);", "tax is level(fees, 1.01);"},
+            {"table fees { 1.00: 2.00; }", "table fees { 1.01: 2.00; }"}, {"table fees { 1.00: 2.00; }", "table fees { 1.00: 2.01; }"},
+            {"table fees { 1.00: 2.00; }", "table fees { 1.00: 2.00; 2.00: 2.00; }"}, {"table slope { 1.00: 50%; }", "table slope { 1.00: 25%; }"},
+            {"table slope { 1.00: 1%; 2.00: 3%; }", "table slope { 1.00: 1%; 2.00: 2%; }"},
+            {"table slope { 1.00: 1%; 2.00: 3%; }", "table slope { 1.00: 1%; 3.00: 3%; }"}, {"table slope { 1.00: 1%; }", "void;"},
+            {"table slope { 1.00: 5%; }", "table slope { 1.00: 500%; }"},
+        };
+        for (String[] pair : others) {
+            differ(pair[0], pair[1], 1);
+        }
+    }
+
+    /** VERSIONS of LAW 0, TOLD as there, also when others came ahead of them. */
+    private static void forkedVersions() {
+        CHECK.furnished(1);
+        StatuteHouse house = CHECK.house;
+        CHECK.due("others ahead", CHECK.enact(2, "article 1 { kids is 8; } article 1 { kids is 9; }"), 2);
+        CHECK.due("first", CHECK.enact(0, "article 1 from 1990-01-01 { kids is 1; }"), 1);
+        CHECK.due("pass", house.pass(TODAY + 3), 0);
+        CHECK.due("others between", CHECK.enact(3, "article 1 { kids is 7; }"), 1);
+        CHECK.due("second", CHECK.enact(0, "article 1 from 1990-01-01 { kids is 2; }"), 1);
+        CHECK.due("pass", house.pass(TODAY + 6), 0);
+        for (int draft = 1; draft <= 3; draft++) {
+            CHECK.due("fork", house.fork(draft), 2);
+            int[] knowns = {TODAY - 1, TODAY, TODAY + 2, TODAY + 3, TODAY + 6};
+            int[] want = {-1, 1, 1, 2, 2};
+            for (int i = 0; i < knowns.length; i++) {
+                CHECK.due("reckon", house.reckon(draft, Check.KIDS, 1, TODAY, knowns[i]), 1);
+                CHECK.due("draft " + draft + " known " + knowns[i], house.value(0), want[i]);
+            }
+        }
+        CHECK.due("in a draft", CHECK.enact(1, "amend 1 { put 1: kids is 3; }"), 1);
+        CHECK.due("another", CHECK.enact(1, "article 2 { yes is true; }"), 1);
+        CHECK.due("pass", house.pass(TODAY + 9), 0);
+        CHECK.due("adopt", house.adopt(1), 2);
+        CHECK.due("told today", house.reckon(0, Check.KIDS, 1, TODAY + 6, TODAY + 8), 1);
+        CHECK.due("not yet", house.value(0), 2);
+        CHECK.due("told today", house.reckon(0, Check.KIDS, 1, TODAY + 6, TODAY + 9), 1);
+        CHECK.due("it is", house.value(0), 3);
+        CHECK.due("in the draft as it was", house.reckon(1, Check.KIDS, 1, TODAY + 6, TODAY + 6), 1);
+        CHECK.due("it is", house.value(0), 3);
+        CHECK.due("in order", house.reckon(0, Check.YES, 1, TODAY + 6, TODAY + 9), 0);
     }
 
     private static void counts() {

@@ -217,6 +217,9 @@ public final class PartBoundsTest {
                 value(words[i] + "(pay, 0.10)", MONEY, row[i + 1]);
             }
         }
+        value("near(0.01, 0.02)", MONEY, 2);
+        value("even(0.01, 0.02)", MONEY, 0);
+        value("near(- 0.01, 0.02)", MONEY, -2);
         // an odd unit has no halves
         value("near(0.01, 0.03)", MONEY, 0);
         value("near(0.02, 0.03)", MONEY, 3);

@@ -30,6 +30,9 @@ public final class TextBoundsTest {
         signs();
         tokensOfFacts();
         tokensOfQuestions();
+        everyTokenOfLaws();
+        everyTokenOfFacts();
+        everyTokenOfQuestions();
         bytes();
         names();
         modes();
@@ -172,6 +175,12 @@ public final class TextBoundsTest {
         CHECK.value("2000- 01-01", 1, 1998, 0);
         CHECK.value("2000-01 -01", 1, 1998, 0);
         CHECK.value("2000-001-01", 1, 1998, 0);
+        CHECK.value("2000- 1-01", 1, 1998, 0);
+        CHECK.value("2000-1 -01", 1, 1998, 0);
+        CHECK.value("2000-01- 1", 1, 1998, 0);
+        CHECK.value("2000-01-1 ", 1, 1998, 0);
+        CHECK.value("2000+01-01", 1, 2000, 0);
+        CHECK.value("2000-01+01", 1, 2000, 0);
         CHECK.value("2000-01", 1, 1999, 0);
         refused("ask", "2000-01-@", SYNTAX);
         refused("ask", "2000-01-01@1", SYNTAX);
@@ -246,6 +255,126 @@ public final class TextBoundsTest {
         refused("ask", most + "+@1899-01-01", RANGE);
     }
 
+    /** Where the TOKENS of a text begin. */
+    private static java.util.List<Integer> places(String text) {
+        java.util.List<Integer> found = new java.util.ArrayList<>();
+        java.util.regex.Matcher tokens = java.util.regex.Pattern
+                .compile("\\d{4}-\\d\\d-\\d\\d|\\d+\\.\\d\\d|\\d+|[a-z][a-z0-9_]*|<=|>=|[^ \n]").matcher(text);
+        while (tokens.find()) {
+            found.add(tokens.start());
+        }
+        return found;
+    }
+
+    /** A text in which each TOKEN behind the 1200th is refused as the 1201st, at its place. */
+    private static void refusedAt1201(String text, String ahead, String end) {
+        String whole = ahead + end;
+        java.util.List<Integer> places = places(whole);
+        CHECK.due("more than 1200 in " + end, places.size() > 1200 ? 1 : 0, 1);
+        if (places.size() > 1200) {
+            int place = places.get(1200);
+            refused(text, whole.substring(0, place) + "@" + whole.substring(place), ROOM);
+        }
+    }
+
+    private static void everyTokenOfLaws() {
+        CHECK.furnished(1);
+        String voids = "{" + "void;".repeat(40) + "}";
+        String[] ends = {
+            "table fees { 1.00: 2.00; 3.00: 4.00; } }",
+            "table slope { 1.00: 5 %; 2.00: 0%; } }",
+            "except 1 a/2: kids is 1 + n when true and has(n); }",
+            "kids is if(true, n, - kids of parent on day); }",
+            "kids is count(not true, together) + 2; void; }",
+            "tax is level(fees, 1.00) * 50 % + over(1.00, day, day); }",
+            "yes is any(n >= 1, parent) or 2 days = 1 months; }",
+            "void; } article 3 b from 2000-01-01 { void; } article 4 { }",
+            "void; } amend 2 { strike 1; put 2: void; add kids is 1; }",
+            "void; } amend 2 from 2000-01-05 { put 1: tax is 1.00; strike 1; }",
+        };
+        for (String end : ends) {
+            int tokens = places(end).size();
+            for (int j = 1; j <= tokens; j++) {
+                // TOKENS ahead: 84 of each full article, one more with a letter, then those of an article that goes on
+                int ahead = 1201 - j;
+                int full = (ahead - 3) / 84;
+                int rest = (ahead - 3) % 84;
+                if (rest > 60) {
+                    // an article without RULES has 4
+                    rest -= 24;
+                }
+                StringBuilder many = new StringBuilder();
+                for (int i = 0; i < full; i++) {
+                    many.append("article 1").append(i == 0 && rest % 2 == 1 ? " a" : "").append(voids);
+                }
+                if ((ahead - 3) % 84 > 60) {
+                    many.append("article 9{}".repeat(6));
+                }
+                refusedAt1201("law", many + "article 2{" + "void;".repeat(rest / 2), end);
+            }
+        }
+    }
+
+    private static void everyTokenOfFacts() {
+        CHECK.furnished(29);
+        String end = "person 1 gone is - 5 days from 2000-01-01 until 2000-01-02; person 1 mate withdrawn until 2000-01-02;"
+                + "person 1 part is 50 %; person 1 parent is 2 from 2000-01-01; person 1 flag is true;";
+        int tokens = places(end).size();
+        for (int j = 1; j <= tokens; j++) {
+            int ahead = 1201 - j;
+            // RECORDS of 6 TOKENS, and some of 5
+            int five = ahead % 6 == 0 ? 0 : 6 - ahead % 6;
+            int six = (ahead - 5 * five) / 6;
+            StringBuilder many = new StringBuilder();
+            for (int i = 0; i < six + five; i++) {
+                many.append("person ").append(i % 30).append(i % 60 < 30 ? " n " : " pay ");
+                many.append(i < five ? "withdrawn;" : i % 60 < 30 ? "is 1;" : "is 1.00;");
+            }
+            refusedAt1201("facts", many.toString(), end);
+        }
+    }
+
+    private static void everyTokenOfQuestions() {
+        CHECK.furnished(1);
+        String[] ends = {"if(true, n, 2)", "has", "- 2 * n", "n of parent of mate on 2000-01-01", "sum(n, together)", "count(has(n), parent)",
+            "least(1, kids)", "weekday(first(day))", "over(n, day, day + 2 days)", "(1 + (2))", "fullmonths(day, 2000-01-01 + 5 months)",
+            "whole(level(slope, 1.00) + 5 %)"};
+        for (String end : ends) {
+            int tokens = places(end).size();
+            for (int j = 1; j <= tokens; j++) {
+                refusedAt1201("ask", ahead(1201 - j), end);
+            }
+        }
+    }
+
+    /** A sum that goes on, of so many TOKENS: 4 P - 2 m of m terms that add up to P ones, one more with a sign ahead. */
+    private static String ahead(int tokens) {
+        int even = tokens / 2 * 2;
+        int terms = even / 2 % 2 == 0 ? 10 : 9;
+        int left = (even + 2 * terms) / 4;
+        StringBuilder text = new StringBuilder(tokens % 2 == 1 ? "-" : "");
+        java.util.List<Integer> powers = new java.util.ArrayList<>();
+        for (int power = 256; power > 0; power /= 2) {
+            if (left >= power) {
+                powers.add(0, power);
+                left -= power;
+            }
+        }
+        while (powers.size() < terms) {
+            int at = 0;
+            while (powers.get(at) == 1) {
+                at++;
+            }
+            int half = powers.get(at) / 2;
+            powers.set(at, half);
+            powers.add(0, half);
+        }
+        for (int power : powers) {
+            text.append(ones(power)).append("+");
+        }
+        return text.toString();
+    }
+
     private static void bytes() {
         CHECK.furnished(1);
         CHECK.value("1" + " ".repeat(3999), 1, 1, 0);
@@ -272,6 +401,25 @@ public final class TextBoundsTest {
         refused("names", "term @more: count;", ROOM);
         refused("names", "term @n39: count;", NAME);
         CHECK.due("none is fine", CHECK.names(" "), 0);
+        leftovers();
+    }
+
+    /** What a refused text told of a NAME is not left for the one that comes in its place. */
+    private static void leftovers() {
+        CHECK.fresh();
+        refused("names", "term abc: money even 500 else 5.00; fact def: person joins; table ghi: rate; fact @abc: count;", NAME);
+        CHECK.due("none", CHECK.house.count(1), 0);
+        CHECK.due("others", CHECK.names("term x: money; fact y: count; fact z: date;"), 3);
+        CHECK.due("no mode", CHECK.house.name(0, 2), 0);
+        CHECK.due("its length", CHECK.house.name(0, 3), 1);
+        CHECK.due("its one letter", CHECK.house.name(0, 11), -1);
+        CHECK.due("no fact that joins", CHECK.house.name(1, 0), 0);
+        CHECK.due("a fact", CHECK.house.name(2, 0), 0);
+        CHECK.due("a date", CHECK.house.name(2, 1), 4);
+        CHECK.due("no else", CHECK.ask("x", 0, TODAY), -11);
+        CHECK.due("law", CHECK.enact(0, "article 1 { x is 1.23; }"), 1);
+        CHECK.due("is not rounded", CHECK.ask("x", 0, TODAY), 2);
+        CHECK.due("at all", CHECK.house.value(0), 123);
     }
 
     private static void modes() {
@@ -433,6 +581,9 @@ public final class TextBoundsTest {
         refused("law", "article 1 { table slope { 1.00: 1%; @1.00: 1%; } }", RANGE);
         refused("law", "article 1 { table slope { 1.00: 1%; @0.99: 1%; } }", RANGE);
         refused("law", "article 1 { table slope { 1.00: 1%; @- 1.01: 1%; } }", SYNTAX);
+        refused("law", "article 1 { table slope { 1.00: 1 @2.00: 1%; } }", SYNTAX);
+        refused("law", "article 1 { table slope { 1.00: 1 @} }", SYNTAX);
+        refused("law", "article 1 { table slope { 1.00: 1 @; } }", SYNTAX);
         refused("law", "article 1 { table slope { 1.00: @1.00; } }", KIND);
         refused("law", "article 1 { table fees { 1.00: @0%; } }", KIND);
     }
@@ -502,8 +653,16 @@ public final class TextBoundsTest {
         fine("(".repeat(39) + "1 of self + 1 of self" + ")".repeat(39));
         fine("(".repeat(39) + "not true and not true or not true" + ")".repeat(39));
         refused("ask", "(".repeat(39) + "not @not true" + ")".repeat(39), ROOM);
+        // what is over is open no more: 64 of each sort, one behind the other
+        for (String one : new String[] {"1 of self", "1 on day", "- 1", "size(1)", "(1)", "1 of self on day"}) {
+            fine(leastOf(one, 64));
+        }
         refused("law", "article 1 { kids is " + "(".repeat(40) + "@(1" + ")".repeat(41) + "; }", ROOM);
         refused("law", "article 1 { kids is 1 when " + "(".repeat(40) + "@(true" + ")".repeat(41) + "; }", ROOM);
+    }
+
+    private static String leastOf(String one, int many) {
+        return many == 1 ? one : "least(" + leastOf(one, many / 2) + ", " + leastOf(one, many / 2) + ")";
     }
 
     private static void heights() {
@@ -527,6 +686,19 @@ public final class TextBoundsTest {
         refused("ask", "@not " + "not ".repeat(15) + "has(n)", HEIGHT);
         fine("if(true, ".repeat(15) + "1" + ", 2)".repeat(15));
         refused("ask", "@if(true, " + "if(true, ".repeat(15) + "1" + ", 2)".repeat(16), HEIGHT);
+        // the second and the third as the first
+        String sixteen = "(1" + " + 1".repeat(15) + ")";
+        String fifteen = "(1" + " + 1".repeat(14) + ")";
+        fine("if(true, 1, " + fifteen + ")");
+        refused("ask", "@if(true, 1, " + sixteen + ")", HEIGHT);
+        refused("ask", "@if(true, " + sixteen + ", 1)", HEIGHT);
+        fine("least(1, " + fifteen + ")");
+        refused("ask", "@least(1, " + sixteen + ")", HEIGHT);
+        refused("ask", "@date(1, " + sixteen + ", 1)", HEIGHT);
+        refused("ask", "@date(1, 1, " + sixteen + ")", HEIGHT);
+        String thirteen = "(1" + " + 1".repeat(12) + ")";
+        fine("over(1, day, day + 1 days * " + thirteen + ")");
+        refused("ask", "@over(1, day, day + 1 days * (1" + " + 1".repeat(13) + "))", HEIGHT);
         fine("(".repeat(40) + "1" + ")".repeat(40));
         refused("law", "article 1 { kids is 1" + " + 1".repeat(15) + " @+ 1; }", HEIGHT);
     }

@@ -20,7 +20,10 @@ public final class ValueBoundsTest {
 
     public static void main(String[] args) {
         days();
+        everyDay();
         datesInTexts();
+        comparisons();
+        sizes();
         counts();
         moneys();
         rates();
@@ -63,6 +66,89 @@ public final class ValueBoundsTest {
             CHECK.due("date " + date, CHECK.ask(date.toString()), DATE);
             CHECK.due("day of " + date, house.value(0), day);
         }
+    }
+
+    /** On each DAY that there is: its year, month and day, its weekday, whether it is a WORKING DAY. */
+    private static void everyDay() {
+        CHECK.furnished(1);
+        CHECK.due("law", CHECK.enact(0, "article 1 from 1900-01-01 { kids is yearof(day) * 10000 + monthof(day) * 100 + dayof(day);"
+                + " tax is 0.01 * weekday(day); yes is working(day); when_due is first(day); }"), 1);
+        CHECK.due("holidays", CHECK.holidays("1 1; 31 12; easter plus 1; first friday of 9; last monday of 5;"), 5);
+        StatuteHouse house = CHECK.house;
+        LocalDate date = LocalDate.of(1900, 1, 1);
+        for (int day = 0; day <= LAST; day++) {
+            int wrong = house.reckon(0, Check.KIDS, 1, day, LAST) == COUNT
+                    && house.value(0) == date.getYear() * 10000 + date.getMonthValue() * 100 + date.getDayOfMonth() ? 0 : 1;
+            wrong |= house.reckon(0, Check.TAX, 1, day, LAST) == MONEY && house.value(0) == date.getDayOfWeek().getValue() ? 0 : 2;
+            boolean open = house.due(day, 0, 0) == day;
+            wrong |= house.reckon(0, Check.YES, 1, day, LAST) == TRUTH && house.value(0) == (open ? 1 : 0) ? 0 : 4;
+            wrong |= house.reckon(0, Check.WHEN_DUE, 1, day, LAST) == DATE
+                    && house.value(0) == day - date.getDayOfMonth() + 1 ? 0 : 8;
+            LocalDate last = date.withDayOfMonth(date.lengthOfMonth());
+            LocalDate friday = LocalDate.of(date.getYear(), 9, 1);
+            friday = friday.plusDays((12 - friday.getDayOfWeek().getValue()) % 7);
+            LocalDate monday = LocalDate.of(date.getYear(), 5, 31);
+            monday = monday.minusDays(monday.getDayOfWeek().getValue() - 1);
+            boolean closed = date.getDayOfWeek().getValue() > 5 || date.getDayOfYear() == 1
+                    || last.equals(date) && date.getMonthValue() == 12 || date.equals(easterOf(date.getYear()).plusDays(1))
+                    || date.equals(friday) || date.equals(monday);
+            wrong |= open == closed ? 16 : 0;
+            CHECK.due("all of " + date, wrong, 0);
+            date = date.plusDays(1);
+        }
+    }
+
+    /** Of each KIND that has an order: two VALUES, the lesser first. */
+    private static void comparisons() {
+        CHECK.furnished(1);
+        String[][] pairs = {{"1", "2"}, {"- 2", "- 1"}, {"1.00", "1.01"}, {"- 1.00", "0.00"}, {"33%", "34%"}, {"- 1%", "0%"},
+            {"2000-01-01", "2000-01-02"}, {"real(1)", "real(2)"}, {"1", "101%"}, {"99%", "1"}, {"1 / 3", "1 / 2"}, {"- 1 / 2", "- 1 / 3"}};
+        for (String[] pair : pairs) {
+            String less = "(" + pair[0] + ") ";
+            String more = " (" + pair[1] + ")";
+            int[] lessMore = {1, 1, 0, 0, 0, 1};
+            int[] moreLess = {0, 0, 1, 1, 0, 1};
+            int[] alike = {0, 1, 0, 1, 1, 0};
+            String[] signs = {"<", "<=", ">", ">=", "=", "#"};
+            for (int i = 0; i < 6; i++) {
+                CHECK.value(less + signs[i] + more, TRUTH, lessMore[i], 0);
+                CHECK.value(more + signs[i] + less, TRUTH, moreLess[i], 0);
+                CHECK.value(less + signs[i] + less, TRUTH, alike[i], 0);
+            }
+        }
+        for (String[] pair : new String[][] {{"true", "false"}, {"self", "state"}, {"1 days", "1 months"}, {"1 days", "2 days"},
+            {"1 months + 1 days", "1 months + 2 days"}, {"2 months + 1 days", "1 months + 1 days"}}) {
+            CHECK.value(pair[0] + " = (" + pair[1] + ")", TRUTH, 0, 0);
+            CHECK.value(pair[0] + " # (" + pair[1] + ")", TRUTH, 1, 0);
+            CHECK.value(pair[0] + " = (" + pair[0] + ")", TRUTH, 1, 0);
+            CHECK.value(pair[0] + " # (" + pair[0] + ")", TRUTH, 0, 0);
+        }
+    }
+
+    /** What is not below 0 is its own size, whatever was worked out ahead. */
+    private static void sizes() {
+        CHECK.furnished(1);
+        CHECK.value("1 / 3", RATE, 1, 3);
+        CHECK.value("size(3)", COUNT, 3, 0);
+        CHECK.value("size(0)", COUNT, 0, 0);
+        CHECK.value("size(2.00)", MONEY, 200, 0);
+        CHECK.value("size(0.00)", MONEY, 0, 0);
+        CHECK.value("size(75%)", RATE, 3, 4);
+        CHECK.value("size(0%)", RATE, 0, 1);
+        CHECK.value("size(real(3))", REAL, Check.bits(3.0), 0);
+        CHECK.value("1 / 3", RATE, 1, 3);
+        CHECK.value("size(- 3)", COUNT, 3, 0);
+        CHECK.value("size(- 2.00)", MONEY, 200, 0);
+        CHECK.value("size(- 75%)", RATE, 3, 4);
+        CHECK.value("size(- real(3))", REAL, Check.bits(3.0), 0);
+        CHECK.value("1 / 3", RATE, 1, 3);
+        CHECK.value("3 rem 2", COUNT, 1, 0);
+        CHECK.value("1 / 3", RATE, 1, 3);
+        CHECK.value("least(3, 2)", COUNT, 2, 0);
+        CHECK.value("1 / 3", RATE, 1, 3);
+        CHECK.value("2000-01-01 + 1 days", DATE, 36525, 0);
+        CHECK.value("1 / 3", RATE, 1, 3);
+        CHECK.value("up(1.00, 0.30)", MONEY, 120, 0);
     }
 
     private static void datesInTexts() {
@@ -149,6 +235,16 @@ public final class ValueBoundsTest {
         CHECK.fails("pay * 2", OVER);
         CHECK.fails("999999999 * pay", OVER);
         CHECK.fails("- 999999999 * pay", OVER);
+        suppose(Check.PAY, 1L << 33, 0);
+        suppose(Check.N, -(1L << 31), 0);
+        // a product of -2^64, of which the machine's own numbers would leave 0
+        CHECK.fails("pay * n", OVER);
+        CHECK.fails("n * pay", OVER);
+        suppose(Check.PAY, MOST_MONEY, 0);
+        suppose(Check.PART, 999999, 1000000);
+        CHECK.value("pay * part", MONEY, 999999000000L, 0);
+        CHECK.value("part * pay", MONEY, 999999000000L, 0);
+        CHECK.value("pay / (1 / part)", MONEY, 999999000000L, 0);
         CHECK.value("pay * 100%", MONEY, MOST_MONEY, 0);
         CHECK.fails("pay * 101%", OVER);
         CHECK.fails("pay * 10000%", OVER);
@@ -253,6 +349,7 @@ public final class ValueBoundsTest {
         CHECK.value("odd", REAL, Check.bits(Double.MAX_VALUE), 0);
         CHECK.value("- odd", REAL, Check.bits(-Double.MAX_VALUE), 0);
         CHECK.value("odd + real(1)", REAL, Check.bits(Double.MAX_VALUE), 0);
+        CHECK.value("- odd - real(1)", REAL, Check.bits(-Double.MAX_VALUE), 0);
         CHECK.fails("odd + odd", NOREAL);
         CHECK.fails("- odd - odd", NOREAL);
         CHECK.fails("odd * odd", NOREAL);
