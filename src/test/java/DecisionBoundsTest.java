@@ -200,6 +200,7 @@ public final class DecisionBoundsTest {
     }
 
     private static void ratesOfInterest() {
+        interest(1, 200, 1, 0);
         interest(1, 200, 99, 0);
         interest(1, 200, 100, 1);
         interest(1, 200, 299, 1);

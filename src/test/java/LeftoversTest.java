@@ -202,12 +202,14 @@ public final class LeftoversTest {
     private static void firstTerm() {
         CHECK.fresh();
         StatuteHouse house = CHECK.house;
-        CHECK.due("names", CHECK.names("term kids: count; term yes: truth; fact n: count else 1;"), 3);
+        CHECK.due("names", CHECK.names("term kids: count; term yes: truth; fact par: person;"), 3);
         CHECK.due("law", CHECK.enact(0, "article 1 { kids is size(kids); }"), 1);
         CHECK.due("a ring", house.ring(0, TODAY), 0);
         CHECK.due("it is", house.reckon(0, 0, 0, TODAY, LAST), -13);
         CHECK.due("by another", CHECK.enact(0, "article 1 { kids is if(yes, 1, 2); yes is kids = 1; }"), 1);
         CHECK.due("a ring", house.ring(0, TODAY), 0);
+        CHECK.due("not by a set", CHECK.enact(0, "article 1 { kids is sum(kids, par) + over(kids, day, day); }"), 1);
+        CHECK.due("no ring", house.ring(0, TODAY), -1);
         CHECK.due("none", CHECK.enact(0, "article 1 { kids is 3; yes is kids = 3; }"), 1);
         CHECK.due("no ring", house.ring(0, TODAY), -1);
         CHECK.due("reckon", house.reckon(0, 1, 0, TODAY, LAST), TRUTH);

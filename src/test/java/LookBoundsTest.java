@@ -467,7 +467,7 @@ public final class LookBoundsTest {
         CHECK.due("others between", CHECK.enact(3, "article 1 { kids is 7; }"), 1);
         CHECK.due("second", CHECK.enact(0, "article 1 from 1990-01-01 { kids is 2; }"), 1);
         CHECK.due("pass", house.pass(TODAY + 6), 0);
-        for (int draft = 1; draft <= 3; draft++) {
+        for (int draft = 3; draft >= 1; draft--) {
             CHECK.due("fork", house.fork(draft), 2);
             int[] knowns = {TODAY - 1, TODAY, TODAY + 2, TODAY + 3, TODAY + 6};
             int[] want = {-1, 1, 1, 2, 2};

@@ -598,6 +598,9 @@ public final class ValueBoundsTest {
         CHECK.due("over from the Saturday on", house.due(LAST - 3, 0, 0), FULL);
         CHECK.due("the Friday", house.due(LAST - 4, 0, 0), LAST - 4);
         CHECK.furnished(1);
+        CHECK.value("working(1900-01-01)", TRUTH, 1, 0);
+        CHECK.value("working(2079-06-06)", TRUTH, 1, 0);
+        CHECK.value("due(1900-01-01)", DATE, 0, 0);
         CHECK.due("closed", CHECK.holidays("6 6; 5 6;"), 2);
         CHECK.fails("due(2079-06-03)", OVER);
         CHECK.value("due(2079-06-02)", DATE, LAST - 4, 0);
