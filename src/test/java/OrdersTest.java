@@ -164,6 +164,50 @@ public final class OrdersTest {
         CHECK.due("revise: due of today is over", house.revise(0), -18);
         CHECK.due("without a term", house.failed(1), NONE);
         firstMonthsFirst();
+        dueAheadOfAmount();
+        reckonedAheadOfBooked();
+    }
+
+    /** In June 2079 nothing is DUE, while the ENDS of what is decided in April is in May. */
+    private static void dueAheadOfAmount() {
+        int may = Check.day(2079, 5, 1);
+        int june = Check.day(2079, 6, 1);
+        String[] rules = {"tax is 1.00;", "tax is 1.00 / n;", "tax is if(day = 2079-06-01, 1.00 / n, 1.00);"};
+        int[] faults = {-18, -17, -18};
+        int[] days = {NONE, may, NONE};
+        for (int i = 0; i < 3; i++) {
+            CHECK.furnished(1);
+            StatuteHouse house = CHECK.house;
+            CHECK.law(rules[i]);
+            CHECK.due("no working days in June", CHECK.holidays("1 6; 2 6; 5 6; 6 6;"), 4);
+            CHECK.due("pass", house.pass(Check.day(2079, 4, 14)), 0);
+            CHECK.due("decide: " + rules[i], house.decide(1, Check.TAX, may, 2), faults[i]);
+            CHECK.due("on its first", house.failed(3), days[i]);
+            CHECK.due("May alone", house.decide(1, Check.TAX, may, 1), i == 1 ? -17 : 0);
+            CHECK.due("June alone", house.decide(1, Check.TAX, june, 1), -18);
+            CHECK.due("without a term", house.failed(1), NONE);
+        }
+    }
+
+    /** DUE of TODAY, then all months are reckoned, then they are booked. */
+    private static void reckonedAheadOfBooked() {
+        CHECK.furnished(1);
+        StatuteHouse house = CHECK.house;
+        CHECK.law("tax is pay / (n + 1);");
+        CHECK.due("pay", house.fact(1, Check.PAY, -1000000000000L, 0, 0, LAST), 1);
+        CHECK.due("decide", house.decide(1, Check.TAX, TODAY, 2), 0);
+        CHECK.due("more by too much", house.fact(1, Check.PAY, 1, 0, 0, LAST), 2);
+        CHECK.due("over alone", house.revise(0), -18);
+        CHECK.due("without a term", house.failed(1), NONE);
+        CHECK.due("a division by 0 in the second month", house.fact(1, Check.N, -1, 0, TODAY + 1, LAST), 3);
+        CHECK.due("the second month's reckoning first", house.revise(0), -17);
+        CHECK.due("on its first", house.failed(3), Check.day(2000, 2, 1));
+        CHECK.due("pass", house.pass(LAST), 1);
+        CHECK.due("no working day", CHECK.holidays("6 6;"), 1);
+        CHECK.due("terms", house.terms(600, 0, 1), 1);
+        CHECK.due("due of today first", house.revise(0), -18);
+        CHECK.due("without a term", house.failed(1), NONE);
+        CHECK.due("no steps", house.count(12), 0);
     }
 
     private static void firstMonthsFirst() {
@@ -237,6 +281,12 @@ public final class OrdersTest {
         CHECK.due("write: law and day", house.write(4, -1, -1), RANGE);
         CHECK.due("differ: both laws", house.differ(4, 0, 0, 4, 0, 0), RANGE);
         CHECK.due("ring: both", house.ring(4, -1), RANGE);
+        String rule = "kids is n + n + n + n + n + n + n + n + n + n;";
+        for (int i = 1; i <= 5; i++) {
+            CHECK.due("law", CHECK.enact(0, "article " + i + " {" + rule.repeat(40) + "}"), 1);
+        }
+        CHECK.due("write: too long", house.write(0, TODAY, TODAY), FULL);
+        CHECK.due("write: a day and too long", house.write(0, TODAY, 65536), RANGE);
     }
 
     private static void fault(String marked, int answer, int kind) {
@@ -454,9 +504,35 @@ public final class OrdersTest {
         CHECK.fails("level(fees, 1.00 / 0)", 7);
         CHECK.fails("level(fees, 1.00)", 1);
         CHECK.fails("over(1 / 0, day, day - 65535 days)", 8);
-        CHECK.fails("over(1 / 0, day - 65535 days, day + part * 1 days)".replace("part * 1", "whole(part) * 1"), 8);
+        CHECK.fails("over(1 / 0, day - 65535 days, day + whole(part) * 1 days)", 8);
         CHECK.fails("up(1.00 / 0, 0.00)", 7);
         CHECK.fails("up(1.00, 0.00 / 0)", 7);
-        CHECK.fails("date(2001, 2, 29 / 0 * 0)".replace("29 / 0 * 0", "whole(29 / 0)"), 7);
+        CHECK.fails("date(2001, 2, whole(29 / 0))", 7);
+        CHECK.fails("date(whole(part), whole(1 / 0), 99)", 6);
+        CHECK.fails("date(whole(1 / 0), whole(part), 99)", 7);
+        CHECK.fails("least(part, 1 / 0)", 6);
+        CHECK.fails("if(part = 1, 1 / 0, 1%)", 6);
+        CHECK.fails("over(part, day + 65535 days, birth)", 8);
+        CHECK.fails("over(part, birth, day + 65535 days)", 6);
+        deepAheadOfLong();
+    }
+
+    /** A 7th exception that would be the 10,001st STEP is DEEP; a 6th one is LONG. */
+    private static void deepAheadOfLong() {
+        CHECK.furnished(29);
+        StringBuilder law = new StringBuilder("kids is 0;");
+        for (int i = 1; i <= 7; i++) {
+            law.append("except 1/").append(i).append(": kids is 1;");
+        }
+        CHECK.law(law.toString());
+        // 18 + 321 * 31 + 5 STEPS of looking for parents, and 17 or 18 more
+        String look = "over(sum(1, parent), 2000-01-01, 2004-12-31)";
+        String looks = (look + " + ").repeat(5) + "over(sum(1, parent), 2000-01-01, 2001-09-30)";
+        CHECK.fails("- (" + looks + " + (1" + " + 1".repeat(7) + ")) + kids", 4);
+        CHECK.due("steps", CHECK.house.count(12), 10000);
+        CHECK.due("of the sixth exception", CHECK.house.failed(5), 7);
+        CHECK.fails("- - (" + looks + " + (1" + " + 1".repeat(7) + ")) + kids", 5);
+        CHECK.due("of the fifth", CHECK.house.failed(5), 6);
+        CHECK.due("steps", CHECK.house.count(12), 10000);
     }
 }
