@@ -45,7 +45,7 @@ public final class KindsTest {
         return found;
     }
 
-    private static int ofOne(String word, int kind) {
+    static int ofOne(String word, int kind) {
         switch (word) {
             case "not":
                 return kind == TRUTH ? TRUTH : NONE;
@@ -91,7 +91,7 @@ public final class KindsTest {
         return among(left, COUNT, RATE) && among(right, COUNT, RATE);
     }
 
-    private static int ofSign(String sign, int left, int right) {
+    static int ofSign(String sign, int left, int right) {
         boolean alike = left == right;
         switch (sign) {
             case "or": case "and":
@@ -143,7 +143,7 @@ public final class KindsTest {
         return left == REAL && right == REAL ? REAL : NONE;
     }
 
-    private static int ofTwo(String word, int left, int right) {
+    static int ofTwo(String word, int left, int right) {
         boolean alike = left == right;
         switch (word) {
             case "least": case "most":
