@@ -23,6 +23,7 @@ public final class LookBoundsTest {
         longWritings();
         constantsAsWritten();
         differences();
+        twoHundredArticles();
         alikeAsWritten();
         otherAsWritten();
         forkedVersions();
@@ -399,6 +400,31 @@ public final class LookBoundsTest {
         CHECK.due("without rules and not in force are alike", CHECK.enact(2, "article 7 {}"), 1);
         CHECK.due("no difference", house.differ(2, TODAY, TODAY, 3, TODAY, TODAY), 0);
         CHECK.due("as known", house.differ(0, TODAY, TODAY, 0, TODAY, TODAY - 1), 30);
+    }
+
+    /** As many articles in force as there can be VERSIONS, told from the last to the first. */
+    private static void twoHundredArticles() {
+        for (int laws = 1; laws <= 2; laws++) {
+            CHECK.furnished(1);
+            for (int text = 0; text < 8; text++) {
+                StringBuilder articles = new StringBuilder();
+                for (int i = 0; i < 25; i++) {
+                    articles.append("article ").append(999 - 4 * (25 * text + i)).append("{ kids is 1; }");
+                }
+                CHECK.due("25 articles", CHECK.enact(text % laws, articles.toString()), 25);
+            }
+            StatuteHouse house = CHECK.house;
+            CHECK.due("all differ", house.differ(0, TODAY, TODAY, 1, TODAY, TODAY), 200);
+            for (int i = 0; i < 200; i++) {
+                CHECK.due("article " + i, house.differs(i), 27 * (203 + 4 * i));
+            }
+            CHECK.due("no more", house.differs(200), NONE);
+            CHECK.due("fork", house.fork(3), 200 / laws);
+            CHECK.due("none differs", house.differ(0, TODAY, TODAY, 3, TODAY, TODAY), 0);
+            CHECK.due("conflicts", house.reckon(0, Check.KIDS, 1, TODAY, TODAY), -12);
+            CHECK.due("the first two articles", house.count(13), 3);
+            CHECK.due("written", house.write(0, TODAY, TODAY), 200 / laws * "article 999 {\nkids is 1;\n}\n".length());
+        }
     }
 
     /** RULES of one article in two LAWS: whether it differs, and whether they are one ATOM as conditions. */

@@ -432,6 +432,10 @@ public final class PartBoundsTest {
         value("count(true, together) of state", COUNT, 1);
         CHECK.due("from the far end", CHECK.ask("sum(1, together)", 29, TODAY), COUNT);
         CHECK.due("all but the state", CHECK.house.value(0), 29);
+        CHECK.due("the state, too, for a day", CHECK.house.fact(0, Check.MATE, 1, 0, TODAY, TODAY) > 0 ? 1 : 0, 1);
+        CHECK.due("from the far end", CHECK.ask("sum(1, together)", 29, TODAY), COUNT);
+        CHECK.due("all thirty", CHECK.house.value(0), 30);
+        CHECK.due("no more", CHECK.house.withdraw(0, Check.MATE, 0, LAST) > 0 ? 1 : 0, 1);
         CHECK.due("a link is gone", CHECK.facts("person 15 mate withdrawn;"), 1);
         value("count(true, together)", COUNT, 15);
         CHECK.due("supposed again", CHECK.house.suppose(15, Check.MATE, 0, 0), 1);
