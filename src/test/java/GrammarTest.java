@@ -239,7 +239,8 @@ public final class GrammarTest {
                 } else if (next(2) == 0) {
                     two(tokens, DATE, "-", DATE, depth);
                 } else {
-                    two(tokens, next(2) == 0 ? SPAN : COUNT, "*", tokens.isEmpty() ? SPAN : COUNT, depth);
+                    boolean spanFirst = next(2) == 0;
+                    two(tokens, spanFirst ? SPAN : COUNT, "*", spanFirst ? COUNT : SPAN, depth);
                 }
                 break;
             case REAL:
