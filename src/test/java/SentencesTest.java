@@ -45,6 +45,9 @@ public final class SentencesTest {
         faultsOfEachCall();
         trialsWithSuppositions();
         trialsByDrafts();
+        draftsOfTheirOwn();
+        daysOfDrafts();
+        lawsAsKnown();
         trialsKnownToday();
         theOtherLawBehindAFault();
         weightsOfThoseWithAValue();
@@ -552,6 +555,78 @@ public final class SentencesTest {
         }
         CHECK.due("law without any", house.forecast(1, Check.TAX, TODAY, 1), 1);
         CHECK.due("none has a value", house.forecasted(0, 1), 0);
+    }
+
+    /** What a DRAFT has, is told, amended and refused in it, is its own, whatever LAW 0 has in the same place. */
+    private static void draftsOfTheirOwn() {
+        CHECK.furnished(1);
+        StatuteHouse house = CHECK.house;
+        CHECK.law("kids is 1;");
+        CHECK.law("kids is 2;");
+        CHECK.due("pass", house.pass(TODAY + 10), 0);
+        CHECK.due("draft", CHECK.enact(1, "article 7 from 1990-01-01 { kids is 7; share is 7%; }"), 1);
+        CHECK.due("amend", CHECK.enact(1, "amend 7 from 1990-01-01 { put 1: kids is 8; }"), 1);
+        CHECK.due("not there", CHECK.enact(1, "amend 1 { strike 1; }"), NONE);
+        CHECK.due("not in law 0", CHECK.enact(0, "amend 7 { strike 1; }"), NONE);
+        CHECK.due("refused", CHECK.enact(1, "article 7 { kids is 9; } article 8 { kids is }"), NONE);
+        CHECK.due("versions of law 0", house.count(8), 2);
+        CHECK.due("versions of the draft", house.count(9), 2);
+        CHECK.due("by the draft", house.reckon(1, Check.KIDS, 1, TODAY, TODAY + 10), COUNT);
+        CHECK.due("as amended", house.value(0), 8);
+        CHECK.due("as known before", house.reckon(1, Check.KIDS, 1, TODAY, TODAY + 9), COUNT);
+        CHECK.due("nothing was told", house.value(0), -1);
+        CHECK.due("by law 0", house.reckon(0, Check.KIDS, 1, TODAY, TODAY), COUNT);
+        CHECK.due("as told", house.value(0), 2);
+    }
+
+    /** The DAYS from which VERSIONS of a DRAFT hold count there, those of LAW 0 do not. */
+    private static void daysOfDrafts() {
+        CHECK.furnished(1);
+        StatuteHouse house = CHECK.house;
+        CHECK.due("law", CHECK.enact(0, "article 1 from 1990-01-01 { tax is 1.00; }"
+                + " article 1 from 2000-02-10 { tax is 2.00; }"), 2);
+        CHECK.due("draft", CHECK.enact(3, "article 1 from 1990-01-01 { tax is 3.00; }"
+                + " article 1 from 2000-02-20 { tax is 4.00; } article 1 from 2000-03-01 { tax is 5.00; }"), 3);
+        int[] days = {Check.day(2000, 2, 10), Check.day(2000, 2, 20), Check.day(2000, 3, 1)};
+        CHECK.due("changes of law 0", house.changes(0, Check.TAX, 1, TODAY, TODAY + 99, TODAY), 2);
+        CHECK.due("day", house.changed(1, 0), days[0]);
+        CHECK.due("changes of the draft", house.changes(3, Check.TAX, 1, TODAY, TODAY + 99, TODAY), 3);
+        CHECK.due("first day", house.changed(1, 0), days[1]);
+        CHECK.due("first value", house.changed(1, 2), 400);
+        CHECK.due("second day", house.changed(2, 0), days[2]);
+        CHECK.due("second value", house.changed(2, 2), 500);
+        long[][] want = {{200, 300}, {200, 400}, {200, 500}};
+        for (int i = 0; i < days.length; i++) {
+            CHECK.due("measure", house.measure(0, 3, Check.TAX, days[i]), 1);
+            CHECK.due("by the first", house.measured(2), want[i][0]);
+            CHECK.due("more by the other", house.measured(10), want[i][1] - want[i][0]);
+        }
+    }
+
+    private static void kidsAsKnown(int known, long want) {
+        CHECK.due("kids known " + known, CHECK.house.reckon(0, Check.KIDS, 1, TODAY, known), COUNT);
+        CHECK.due("kids known " + known + " are", CHECK.house.value(0), want);
+        CHECK.due("changes known " + known, CHECK.house.changes(0, Check.KIDS, 1, TODAY, TODAY, known), 1);
+        CHECK.due("changed known " + known, CHECK.house.changed(0, 2), want);
+        CHECK.feed("level(fees, 5.00)");
+        CHECK.due("table known " + known, CHECK.house.ask(0, 1, TODAY, known), want == -1 ? -11 : MONEY);
+    }
+
+    /** One call behind the other, as known on one DAY and on another one. */
+    private static void lawsAsKnown() {
+        CHECK.furnished(1);
+        StatuteHouse house = CHECK.house;
+        CHECK.due("pass", house.pass(TODAY + 10), 0);
+        CHECK.law("kids is 1; table fees { 1.00: 2.00; }");
+        CHECK.due("pass on", house.pass(TODAY + 20), 0);
+        CHECK.law("kids is n; table fees { 1.00: 3.00; }");
+        CHECK.due("pass on", house.pass(TODAY + 30), 0);
+        tells(1, Check.N, 3);
+        int[] knowns = {LAST, TODAY, TODAY + 10, LAST, TODAY + 9, TODAY + 20, TODAY + 19, TODAY + 30, TODAY + 29, 0, LAST};
+        long[] want = {3, -1, 1, 3, -1, 0, 1, 3, 0, -1, 3};
+        for (int i = 0; i < knowns.length; i++) {
+            kidsAsKnown(knowns[i], want[i]);
+        }
     }
 
     /** On a DAY ahead of that on which all was told, as known TODAY. */
