@@ -234,13 +234,18 @@ final class Model {
         return found;
     }
 
-    private boolean isAnnulled(Rule rule, int day) {
+    boolean isAnnulled(Rule rule, int day) {
         for (Annulled a : annulled) {
             if (a.rule == rule && a.from <= day && a.told <= known) {
                 return true;
             }
         }
         return false;
+    }
+
+    List<Placed> rulesInForce(int day, int knownOn) {
+        known = knownOn;
+        return rulesInForce(day);
     }
 
     private List<Placed> rulesInForce(int day) {

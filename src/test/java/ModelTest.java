@@ -5,15 +5,9 @@ import java.util.List;
 /** Laws, facts and questions made by a fixed rule, and all that is reckoned of them held against a second reckoner. */
 public final class ModelTest {
     private static final int LAST = Check.LAST;
-    private static final String[] NAMES = {"flag", "n", "pay", "part", "birth", "gone", "odd", "parent", "mate", "yes", "kids",
-        "tax", "share", "when_due", "notice", "index", "head", "whole_tax", "slope", "fees"};
-    private static final int[] KINDS = {0, 1, 2, 3, 4, 5, 6, 7, 7, 0, 1, 2, 3, 4, 5, 6, 7, 2, 3, 2};
     private static final long[][] ELSES = new long[20][];
-    private static final int FACTS = 9;
-    private static final int TERMS = 18;
-    private static final int[] ARTICLES = {27, 28, 29, 54, 55};
     private static final Check CHECK = new Check();
-    private static long state = 8;
+    private static final Maker MAKER = new Maker(8);
     private static Model model;
     private static int today;
     private static List<List<Model.Version>> laws;
@@ -36,7 +30,8 @@ public final class ModelTest {
                     reckon();
                 }
                 trials();
-                today += next(120);
+                today += MAKER.next(120);
+                MAKER.today = today;
                 CHECK.house.pass(today);
             }
         }
@@ -46,52 +41,36 @@ public final class ModelTest {
         CHECK.end("ModelTest");
     }
 
-    private static int next(int below) {
-        state = state * 6364136223846793005L + 1442695040888963407L;
-        return (int) ((state >>> 33) % below);
-    }
-
-    private static boolean often() {
-        return next(4) > 0;
-    }
-
-    private static boolean seldom() {
-        return next(6) == 0;
-    }
-
     private static void begin() {
         CHECK.furnished(4);
-        model = new Model(KINDS, ELSES, Check.MATE, Check.WHOLE_TAX);
+        model = new Model(Maker.KINDS, ELSES, Check.MATE, Check.WHOLE_TAX);
         model.people = 5;
         today = Check.TODAY;
+        MAKER.today = today;
         laws = new ArrayList<>();
         for (int law = 0; law < 4; law++) {
             laws.add(new ArrayList<>());
         }
     }
 
-    private static int dayNear() {
-        return seldom() ? next(LAST + 1) : today - 300 + next(500);
-    }
-
     private static long[] valueOf(int kind) {
         switch (kind) {
             case Model.TRUTH:
-                return new long[] {next(2), 0};
+                return new long[] {MAKER.next(2), 0};
             case Model.COUNT:
-                return new long[] {seldom() ? Integer.MIN_VALUE + next(3) : next(15) - 4, 0};
+                return new long[] {MAKER.seldom() ? Integer.MIN_VALUE + MAKER.next(3) : MAKER.next(15) - 4, 0};
             case Model.MONEY:
-                return new long[] {seldom() ? 999999999000L + next(1000) : next(600000) - 100000, 0};
+                return new long[] {MAKER.seldom() ? 999999999000L + MAKER.next(1000) : MAKER.next(600000) - 100000, 0};
             case Model.RATE:
-                return next(2) == 0 ? new long[] {next(5), 1} : new long[] {2 * next(9) - 7, 1 << next(19)};
+                return MAKER.next(2) == 0 ? new long[] {MAKER.next(5), 1} : new long[] {2 * MAKER.next(9) - 7, 1 << MAKER.next(19)};
             case Model.DATE:
-                return new long[] {dayNear(), 0};
+                return new long[] {MAKER.dayNear(), 0};
             case Model.SPAN:
-                return new long[] {next(30) - 5, next(90) - 20};
+                return new long[] {MAKER.next(30) - 5, MAKER.next(90) - 20};
             case Model.REAL:
-                return new long[] {Check.bits((next(2000) - 300) / (double) (1 + next(40))), 0};
+                return new long[] {Check.bits((MAKER.next(2000) - 300) / (double) (1 + MAKER.next(40))), 0};
             default:
-                return new long[] {next(5), 0};
+                return new long[] {MAKER.next(5), 0};
         }
     }
 
@@ -99,12 +78,12 @@ public final class ModelTest {
     private static void tell() {
         StatuteHouse house = CHECK.house;
         for (int i = 0; i < 25; i++) {
-            int person = next(5);
-            int name = next(FACTS);
-            long[] value = valueOf(KINDS[name]);
-            int from = often() ? Math.min(dayNear(), LAST) : 0;
-            int to = often() ? LAST : Math.min(LAST, from + next(200));
-            boolean withdrawn = seldom();
+            int person = MAKER.next(5);
+            int name = MAKER.next(Maker.FACTS);
+            long[] value = valueOf(Maker.KINDS[name]);
+            int from = MAKER.often() ? Math.min(MAKER.dayNear(), LAST) : 0;
+            int to = MAKER.often() ? LAST : Math.min(LAST, from + MAKER.next(200));
+            boolean withdrawn = MAKER.seldom();
             int answer = withdrawn ? house.withdraw(person, name, from, to)
                     : house.fact(person, name, value[0], value[1], from, to);
             if (answer != -4) {
@@ -112,401 +91,69 @@ public final class ModelTest {
                 CHECK.due("records", answer, model.records.size());
             }
         }
-        if (seldom()) {
+        if (MAKER.seldom()) {
             CHECK.due("forget", house.forget(), model.supposed.size());
             model.supposed.clear();
-        } else if (seldom()) {
-            suppose(next(5), next(FACTS));
+        } else if (MAKER.seldom()) {
+            suppose(MAKER.next(5), MAKER.next(Maker.FACTS));
         }
     }
 
     private static void suppose(int person, int name) {
-        long[] value = valueOf(KINDS[name]);
+        long[] value = valueOf(Maker.KINDS[name]);
         model.supposed.removeIf(s -> s.person() == person && s.name() == name);
         model.supposed.add(new Model.Told(person, name, value[0], value[1], 0, LAST, 0, false));
         CHECK.due("suppose", CHECK.house.suppose(person, name, value[0], value[1]), model.supposed.size());
     }
 
-    private static String address(int article) {
-        return article / 27 + (article % 27 > 0 ? " " + (char) ('a' + article % 27 - 1) : "");
-    }
-
     /** A text for a LAW, now and then a DRAFT that is forked or adopted, or a RULE that is annulled. */
     private static void legislate() {
         StatuteHouse house = CHECK.house;
-        int law = often() ? 0 : 1 + next(3);
+        int law = MAKER.often() ? 0 : 1 + MAKER.next(3);
         for (int i = 0; i < 3; i++) {
             StringBuilder text = new StringBuilder();
-            Model.Version version = version(law, text);
+            Model.Version version = MAKER.version(laws.get(law), text);
             if (text.length() < 3900) {
                 CHECK.due(text.toString(), CHECK.enact(law, text.toString()), 1);
                 laws.get(law).add(version);
             }
         }
-        if (seldom()) {
-            int draft = 1 + next(3);
+        if (MAKER.seldom()) {
+            int draft = 1 + MAKER.next(3);
             CHECK.due("fork", house.fork(draft), laws.get(0).size());
             laws.set(draft, new ArrayList<>(laws.get(0)));
         }
-        int article = ARTICLES[next(ARTICLES.length)];
-        int number = 1 + next(4);
-        int from = Math.max(0, Math.min(LAST, dayNear()));
+        int article = Maker.ARTICLES[MAKER.next(Maker.ARTICLES.length)];
+        int number = 1 + MAKER.next(4);
+        int from = Math.max(0, Math.min(LAST, MAKER.dayNear()));
         model.versions = laws.get(0);
         Model.Version at = Model.inForce(model.versions, from, today).get(article);
         Model.Rule rule = at == null || number > at.rules.size() ? null : at.rules.get(number - 1);
-        int answer = seldom() ? house.annul(article, number, from) : -1;
+        int answer = MAKER.seldom() ? house.annul(article, number, from) : -1;
         if (answer > 0) {
             CHECK.due("there is one to annul", rule == null ? 0 : 1, 1);
             model.annulled.add(new Model.Annulled(rule, from, today));
         }
     }
 
-    private static Model.Version version(int law, StringBuilder text) {
-        Model.Version version = new Model.Version();
-        version.article = ARTICLES[next(ARTICLES.length)];
-        version.from = Math.max(0, today - 400 + next(600));
-        version.told = today;
-        Model.Version before = Model.inForce(laws.get(law), version.from, today).get(version.article);
-        boolean amends = before != null && next(2) == 0;
-        text.append(amends ? "amend " : "article ").append(address(version.article)).append(" from ")
-                .append(Model.dateOf(version.from)).append(" {\n");
-        if (amends) {
-            version.rules.addAll(before.rules);
-        }
-        for (int i = 1 + next(4); i > 0; i--) {
-            if (amends && next(2) == 0 && !version.rules.isEmpty()) {
-                int number = 1 + next(version.rules.size());
-                boolean strikes = next(2) == 0;
-                text.append(strikes ? "strike " : "put ").append(number).append(strikes ? ";" : ": ");
-                version.rules.set(number - 1, strikes ? null : rule(text));
-            } else {
-                text.append(amends ? "add " : "");
-                version.rules.add(rule(text));
-            }
-        }
-        text.append("}");
-        return version;
-    }
-
-    private static Model.Rule rule(StringBuilder text) {
-        if (next(12) == 0) {
-            text.append("void;");
-            return null;
-        }
-        Model.Rule rule = new Model.Rule();
-        if (next(5) == 0) {
-            table(rule, text);
-            return rule;
-        }
-        rule.name = FACTS + next(TERMS - FACTS);
-        if (next(3) == 0) {
-            rule.article = ARTICLES[next(ARTICLES.length)];
-            rule.number = 1 + next(4);
-            text.append("except ").append(address(rule.article)).append(" / ").append(rule.number).append(": ");
-        }
-        rule.ex = part(KINDS[rule.name], 1 + next(3));
-        text.append(NAMES[rule.name]).append(" is ").append(rule.ex.text);
-        if (next(2) == 0) {
-            rule.when = part(Model.TRUTH, 1 + next(2));
-            text.append(" when ").append(rule.when.text);
-        }
-        text.append(";\n");
-        return rule;
-    }
-
-    private static void table(Model.Rule rule, StringBuilder text) {
-        rule.name = TERMS + next(2);
-        rule.rows = new ArrayList<>();
-        text.append("table ").append(NAMES[rule.name]).append(" {");
-        long bound = next(3000);
-        for (int i = 1 + next(4); i > 0; i--) {
-            int value = next(rule.name == TERMS ? 60 : 90000);
-            int shared = 1;
-            for (int by = 2; by <= 100; by++) {
-                shared = 100 % by == 0 && value % by == 0 ? by : shared;
-            }
-            rule.rows.add(rule.name == TERMS ? new long[] {bound, value / shared, 100 / shared} : new long[] {bound, value, 0});
-            text.append(cents(bound)).append(": ").append(rule.name == TERMS ? value + "%" : cents(value)).append("; ");
-            bound += 1 + next(200000);
-        }
-        text.append("}\n");
-    }
-
-    private static String cents(long cents) {
-        return cents / 100 + "." + cents / 10 % 10 + cents % 10;
-    }
-
-    private static Model.Part leaf(String op, int kind, int name, String text) {
-        Model.Part part = new Model.Part(op, kind);
-        part.name = name;
-        part.text = text;
-        return part;
-    }
-
-    private static Model.Part constant(int kind) {
-        Model.Part part = new Model.Part("constant", kind);
-        int number = next(4) == 0 ? next(9999) : next(20);
-        part.constant = new long[] {number, 0};
-        switch (kind) {
-            case Model.TRUTH:
-                part.constant[0] = number % 2;
-                part.text = number % 2 == 0 ? "false" : "true";
-                return part;
-            case Model.COUNT:
-                part.text = String.valueOf(number);
-                return part;
-            case Model.MONEY:
-                part.text = cents(number);
-                return part;
-            case Model.RATE:
-                part.constant[0] = next(8);
-                part.constant[1] = 1;
-                part.text = part.constant[0] + "00%";
-                return part;
-            case Model.DATE:
-                part.constant[0] = Math.min(LAST, today + number - 50);
-                part.text = Model.dateOf(part.constant[0]).toString();
-                return part;
-            case Model.SPAN:
-                boolean days = next(2) == 0;
-                part.constant = new long[] {days ? 0 : number % 60, days ? number : 0};
-                part.text = days ? number + " days" : number % 60 + " months";
-                return part;
-            case Model.PERSON:
-                return next(2) == 0 ? leaf("self", kind, -1, "self") : leaf("state", kind, -1, "state");
-            default:
-                return with("real", kind, "real(%s)", constant(Model.COUNT));
-        }
-    }
-
-    /** A PART over others, whose texts come one by one to the places of %s. */
-    private static Model.Part with(String op, int kind, String text, Model.Part... under) {
-        Model.Part part = new Model.Part(op, kind, under);
-        part.text = text;
-        for (Model.Part one : under) {
-            part.text = part.text.replaceFirst("%s", one.text);
-        }
-        return part;
-    }
-
-    private static Model.Part two(String op, int kind, Model.Part left, Model.Part right) {
-        return with(op, kind, "(%s " + op + " %s)", left, right);
-    }
-
-    private static Model.Part call(String op, int kind, Model.Part... under) {
-        return with(op, kind, op + "(%s" + ", %s".repeat(under.length - 1) + ")", under);
-    }
-
-    private static String any(String... words) {
-        return words[next(words.length)];
-    }
-
-    private static Model.Part part(int kind, int depth) {
-        int of = next(10);
-        if (depth <= 0 || of == 0) {
-            int way = next(6);
-            if (way < 3) {
-                int name = kind == Model.PERSON && next(2) == 0 ? Check.MATE : kind;
-                return leaf("fact", kind, name, NAMES[name]);
-            }
-            if (way < 5 && !(kind == Model.DATE && next(2) == 0)) {
-                return constant(kind);
-            }
-            if (kind == Model.DATE) {
-                return leaf("day", kind, -1, "day");
-            }
-            int name = kind == Model.MONEY && next(3) == 0 ? Check.WHOLE_TAX : Check.YES + kind;
-            return leaf("term", kind, name, NAMES[name]);
-        }
-        int less = depth - 1;
-        switch (of) {
-            case 1:
-                return two("of", kind, part(kind, less), part(Model.PERSON, less));
-            case 2:
-                return two("on", kind, part(kind, less), part(Model.DATE, less));
-            case 3:
-                return call("if", kind, part(Model.TRUTH, less), part(kind, less), part(kind, less));
-            default:
-                return operation(kind, less);
-        }
-    }
-
-    private static boolean isSummed(int kind) {
-        return kind == Model.COUNT || kind == Model.MONEY || kind == Model.RATE || kind == Model.REAL;
-    }
-
-    private static Model.Part operation(int kind, int depth) {
-        if (isSummed(kind) && next(5) == 0) {
-            return next(2) == 0 ? set(any("sum", "greatest", "smallest"), kind, kind, depth)
-                    : call("over", kind, part(kind, depth), part(Model.DATE, depth), part(Model.DATE, depth));
-        }
-        if (isSummed(kind) && next(5) == 0) {
-            return next(2) == 0 ? call(any("least", "most"), kind, part(kind, depth), part(kind, depth))
-                    : call("size", kind, part(kind, depth));
-        }
-        switch (kind) {
-            case Model.TRUTH:
-                return truth(depth);
-            case Model.COUNT:
-                return count(depth);
-            case Model.MONEY:
-                return money(depth);
-            case Model.RATE:
-                int left = next(2) == 0 ? Model.RATE : Model.COUNT;
-                if (next(5) == 0) {
-                    return two("/", kind, part(Model.MONEY, depth), part(Model.MONEY, depth));
-                }
-                if (next(6) == 0) {
-                    return reading("level", kind, TERMS, depth);
-                }
-                return two(any("+", "-", "*", "/"), kind, part(left, depth), part(Model.RATE, depth));
-            case Model.DATE:
-                return date(depth);
-            case Model.SPAN:
-                return span(depth);
-            case Model.REAL:
-                return real(depth);
-            default:
-                return two("of", kind, part(kind, depth), part(kind, depth));
-        }
-    }
-
-    private static Model.Part set(String op, int kind, int ofKind, int depth) {
-        int name = next(3) == 0 ? -1 : next(2) == 0 ? Check.PARENT : Check.MATE;
-        Model.Part part = with(op, kind, op + "(%s, " + (name < 0 ? "together" : NAMES[name]) + ")", part(ofKind, depth));
-        part.name = name;
-        return part;
-    }
-
-    private static Model.Part reading(String op, int kind, int table, int depth) {
-        Model.Part part = with(op, kind, op + "(" + NAMES[table] + ", %s)", part(Model.MONEY, depth));
-        part.name = table;
-        return part;
-    }
-
-    private static Model.Part truth(int depth) {
-        switch (next(6)) {
-            case 0:
-                return two(any("or", "and"), Model.TRUTH, part(Model.TRUTH, depth), part(Model.TRUTH, depth));
-            case 1:
-                return with("not", Model.TRUTH, "(not %s)", part(Model.TRUTH, depth));
-            case 2:
-                int name = next(FACTS);
-                return leaf("has", Model.TRUTH, name, "has(" + NAMES[name] + ")");
-            case 3:
-                return set(any("any", "all"), Model.TRUTH, Model.TRUTH, depth);
-            case 4:
-                int kind = next(8);
-                return two(any("=", "#"), Model.TRUTH, part(kind, depth), part(kind, depth));
-            default:
-                int[] ordered = {Model.COUNT, Model.MONEY, Model.RATE, Model.DATE, Model.REAL};
-                int left = ordered[next(5)];
-                int right = left == Model.COUNT && next(2) == 0 ? Model.RATE : left;
-                return two(any("<", "<=", ">", ">="), Model.TRUTH, part(left, depth), part(right, depth));
-        }
-    }
-
-    private static Model.Part count(int depth) {
-        switch (next(6)) {
-            case 0:
-                return call(any("fullmonths", "fullyears", "daysto"), Model.COUNT, part(Model.DATE, depth), part(Model.DATE, depth));
-            case 1:
-                return call(any("yearof", "monthof", "dayof", "weekday"), Model.COUNT, part(Model.DATE, depth));
-            case 2:
-                return call("whole", Model.COUNT, part(next(2) == 0 ? Model.RATE : Model.REAL, depth));
-            case 3:
-                return set("count", Model.COUNT, Model.TRUTH, depth);
-            case 4:
-                return with("- ", Model.COUNT, "(- %s)", part(Model.COUNT, depth));
-            default:
-                return two(any("+", "-", "*", "rem"), Model.COUNT, part(Model.COUNT, depth), part(Model.COUNT, depth));
-        }
-    }
-
-    private static Model.Part money(int depth) {
-        int other = next(2) == 0 ? Model.COUNT : Model.RATE;
-        switch (next(8)) {
-            case 0:
-                return two(any("*", "/"), Model.MONEY, part(Model.MONEY, depth), part(other, depth));
-            case 1:
-                return two("*", Model.MONEY, part(other, depth), part(Model.MONEY, depth));
-            case 2:
-                return call(any("up", "down", "near", "even"), Model.MONEY, part(Model.MONEY, depth), part(Model.MONEY, depth));
-            case 3:
-                return call("cents", Model.MONEY, part(Model.REAL, depth));
-            case 4:
-                return reading(any("level", "between"), Model.MONEY, TERMS + 1, depth);
-            case 5:
-                return reading("slices", Model.MONEY, TERMS, depth);
-            case 6:
-                return with("- ", Model.MONEY, "(- %s)", part(Model.MONEY, depth));
-            default:
-                return two(any("+", "-", "rem"), Model.MONEY, part(Model.MONEY, depth), part(Model.MONEY, depth));
-        }
-    }
-
-    private static Model.Part date(int depth) {
-        switch (next(4)) {
-            case 0:
-                return call(any("first", "last", "due"), Model.DATE, part(Model.DATE, depth));
-            case 1:
-                return call(any("least", "most"), Model.DATE, part(Model.DATE, depth), part(Model.DATE, depth));
-            case 2:
-                Model.Part year = new Model.Part("constant", Model.COUNT);
-                year.constant = new long[] {1899 + next(182), 0};
-                year.text = String.valueOf(year.constant[0]);
-                return call("date", Model.DATE, year, part(Model.COUNT, depth), part(Model.COUNT, depth));
-            default:
-                return two(any("+", "-"), Model.DATE, part(Model.DATE, depth), part(Model.SPAN, depth));
-        }
-    }
-
-    private static Model.Part span(int depth) {
-        switch (next(4)) {
-            case 0:
-                return two("-", Model.SPAN, part(Model.DATE, depth), part(Model.DATE, depth));
-            case 1:
-                return next(2) == 0 ? two("*", Model.SPAN, part(Model.SPAN, depth), part(Model.COUNT, depth))
-                        : two("*", Model.SPAN, part(Model.COUNT, depth), part(Model.SPAN, depth));
-            case 2:
-                return with("- ", Model.SPAN, "(- %s)", part(Model.SPAN, depth));
-            default:
-                return two(any("+", "-"), Model.SPAN, part(Model.SPAN, depth), part(Model.SPAN, depth));
-        }
-    }
-
-    private static Model.Part real(int depth) {
-        switch (next(4)) {
-            case 0:
-                return call("real", Model.REAL, part(any("c", "m", "r").charAt(0) == 'c' ? Model.COUNT
-                        : next(2) == 0 ? Model.MONEY : Model.RATE, depth));
-            case 1:
-                return call("root", Model.REAL, part(Model.REAL, depth));
-            case 2:
-                return with("- ", Model.REAL, "(- %s)", part(Model.REAL, depth));
-            default:
-                return two(any("+", "-", "*", "/", "rem"), Model.REAL, part(Model.REAL, depth), part(Model.REAL, depth));
-        }
-    }
-
     private static int aLaw() {
-        int law = often() ? 0 : next(4);
+        int law = MAKER.often() ? 0 : MAKER.next(4);
         model.versions = laws.get(law);
         return law;
     }
 
     private static int aDay() {
-        return Math.max(0, Math.min(LAST, dayNear()));
+        return Math.max(0, Math.min(LAST, MAKER.dayNear()));
     }
 
     private static int aKnown() {
-        return often() ? today : Math.max(0, Math.min(LAST, today - 200 + next(250)));
+        return MAKER.often() ? today : Math.max(0, Math.min(LAST, today - 200 + MAKER.next(250)));
     }
 
     private static void ask() {
-        Model.Part question = part(next(8), next(5));
+        Model.Part question = MAKER.part(MAKER.next(8), MAKER.next(5));
         int law = aLaw();
-        int person = next(5);
+        int person = MAKER.next(5);
         int day = aDay();
         int known = aKnown();
         if (question.text.length() > 3900) {
@@ -519,14 +166,14 @@ public final class ModelTest {
     }
 
     private static void reckon() {
-        int term = FACTS + next(TERMS - FACTS);
+        int term = Maker.FACTS + MAKER.next(Maker.TERMS - Maker.FACTS);
         int law = aLaw();
-        int person = next(5);
+        int person = MAKER.next(5);
         int day = aDay();
         int known = aKnown();
         model.steps = 0;
         long[] want = model.reckon(term, null, person, day, known);
-        same(NAMES[term], CHECK.house.reckon(law, term, person, day, known), KINDS[term], want);
+        same(Maker.NAMES[term], CHECK.house.reckon(law, term, person, day, known), Maker.KINDS[term], want);
     }
 
     private static void same(String what, int answer, int kind, long[] want) {
@@ -564,10 +211,10 @@ public final class ModelTest {
 
     private static void changes() {
         int law = aLaw();
-        int term = FACTS + next(TERMS - FACTS);
-        int person = next(5);
-        int from = Math.max(0, today - 200 + next(300));
-        int to = from + next(40);
+        int term = Maker.FACTS + MAKER.next(Maker.TERMS - Maker.FACTS);
+        int person = MAKER.next(5);
+        int from = Math.max(0, today - 200 + MAKER.next(300));
+        int to = from + MAKER.next(40);
         int known = aKnown();
         model.steps = 0;
         List<long[]> want = new ArrayList<>();
@@ -589,9 +236,9 @@ public final class ModelTest {
     }
 
     private static void measure() {
-        int law = next(4);
-        int other = next(5) - 1;
-        int term = next(2) == 0 ? Check.TAX : Check.WHOLE_TAX;
+        int law = MAKER.next(4);
+        int other = MAKER.next(5) - 1;
+        int term = MAKER.next(2) == 0 ? Check.TAX : Check.WHOLE_TAX;
         int day = aDay();
         model.steps = 0;
         long[] want = new long[12];
@@ -626,9 +273,9 @@ public final class ModelTest {
 
     private static void forecast() {
         int law = aLaw();
-        int term = next(2) == 0 ? Check.TAX : Check.WHOLE_TAX;
+        int term = MAKER.next(2) == 0 ? Check.TAX : Check.WHOLE_TAX;
         int first = (int) Model.dayOf(Model.dateOf(Math.max(31, today - 100)).withDayOfMonth(1));
-        int months = 1 + next(4);
+        int months = 1 + MAKER.next(4);
         model.steps = 0;
         CHECK.due("forecast", CHECK.house.forecast(law, term, first, months), months);
         for (int month = 0; month < months; month++) {
@@ -648,11 +295,11 @@ public final class ModelTest {
 
     private static void solve() {
         int law = aLaw();
-        int person = next(5);
+        int person = MAKER.next(5);
         int day = aDay();
-        int name = next(2) == 0 ? Check.N : Check.PAY;
-        long low = next(200) - 100;
-        long high = low + next(1000);
+        int name = MAKER.next(2) == 0 ? Check.N : Check.PAY;
+        long low = MAKER.next(200) - 100;
+        long high = low + MAKER.next(1000);
         List<Model.Told> before = new ArrayList<>(model.supposed);
         model.supposed.removeIf(s -> s.person() == person && s.name() == name);
         model.steps = 0;
@@ -685,10 +332,10 @@ public final class ModelTest {
     }
 
     private static void decide() {
-        int person = next(5);
-        int term = next(2) == 0 ? Check.TAX : Check.WHOLE_TAX;
+        int person = MAKER.next(5);
+        int term = MAKER.next(2) == 0 ? Check.TAX : Check.WHOLE_TAX;
         int first = (int) Model.dayOf(Model.dateOf(Math.max(31, today - 60)).withDayOfMonth(1));
-        int months = 1 + next(4);
+        int months = 1 + MAKER.next(4);
         model.versions = laws.get(0);
         model.supposing = false;
         model.steps = 0;
