@@ -32,9 +32,12 @@ public final class SentencesTest {
         ifWorksOneOut();
         setsThatStopLooking();
         sumsOfNone();
+        ratesOfSets();
+        manyRows();
         knownThen();
         suppositionsOfOtherFacts();
         exceptionsAreRounded();
+        firstExceptionsHold();
         exceptionsOfInnerTerms();
         noStepsNoFault();
         linesOfNamesAlone();
@@ -47,6 +50,7 @@ public final class SentencesTest {
         trialsByDrafts();
         draftsOfTheirOwn();
         daysOfDrafts();
+        draftsAsKnown();
         lawsAsKnown();
         trialsKnownToday();
         theOtherLawBehindAFault();
@@ -304,6 +308,40 @@ public final class SentencesTest {
         }
     }
 
+    /** RATES are compared as what they are, not by one of their numbers. */
+    private static void ratesOfSets() {
+        CHECK.furnished(6);
+        StatuteHouse house = CHECK.house;
+        int[][] parts = {{1, 3}, {2, 5}, {3, 8}, {5, 16}, {-7, 4}, {-5, 3}};
+        for (int person = 1; person <= 6; person++) {
+            CHECK.due("part", house.fact(person, Check.PART, parts[person - 1][0], parts[person - 1][1], 0, LAST), 2 * person - 1);
+            CHECK.due("parent", house.fact(person, Check.PARENT, person > 4 ? 2 : 1, 0, 0, LAST), 2 * person);
+        }
+        CHECK.value("greatest(part, parent)", 3, 2, 5);
+        CHECK.value("smallest(part, parent)", 3, 5, 16);
+        CHECK.due("of another one", CHECK.ask("greatest(part, parent)", 2, TODAY), 3);
+        CHECK.due("greatest below 0", house.value(0), -5);
+        CHECK.due("of another one", CHECK.ask("smallest(part, parent)", 2, TODAY), 3);
+        CHECK.due("smallest below 0", house.value(0), -7);
+        CHECK.value("sum(part, parent)", 3, 341, 240);
+    }
+
+    /** The rows around, wherever in a TABLE they stand. */
+    private static void manyRows() {
+        CHECK.furnished(1);
+        CHECK.law("table fees { 1.00: 10.00; 2.00: 30.00; 4.00: 20.00; 8.00: 60.00; 16.00: 50.00; 32.00: 90.00; }"
+                + " table slope { 1.00: 10%; 2.00: 50%; 4.00: 20%; 8.00: 100%; }");
+        String[] at = {"0.50", "1.00", "1.50", "2.00", "3.00", "4.00", "5.00", "8.00", "12.00", "16.00", "20.00", "32.00", "50.00"};
+        long[] between = {1000, 1000, 2000, 3000, 2500, 2000, 3000, 6000, 5500, 5000, 6000, 9000, 9000};
+        long[] levels = {0, 1000, 1000, 3000, 3000, 2000, 2000, 6000, 6000, 5000, 5000, 9000, 9000};
+        long[] slices = {0, 0, 5, 10, 60, 110, 130, 190, 590, 990, 1390, 2590, 4390};
+        for (int i = 0; i < at.length; i++) {
+            CHECK.value("between(fees, " + at[i] + ")", MONEY, between[i], 0);
+            CHECK.value("level(fees, " + at[i] + ")", MONEY, levels[i], 0);
+            CHECK.value("slices(slope, " + at[i] + ")", MONEY, slices[i], 0);
+        }
+    }
+
     private static void asKnown(String text, int known, long want) {
         CHECK.feed(text);
         CHECK.house.ask(0, 1, TODAY, known);
@@ -353,6 +391,23 @@ public final class SentencesTest {
         line(1, 2, 1, Check.WHOLE_TAX, 1, TODAY, 27, 1, 2, -400, 0);
         line(2, 2, 1, Check.WHOLE_TAX, 1, TODAY, 27, 2, 2, -400, 0);
         line(3, 2, 1, Check.WHOLE_TAX, 1, TODAY, 27, 3, 1, -400, 0);
+    }
+
+    /** The VALUE of the exception that HOLDS is kept, though others behind it don't HOLD. */
+    private static void firstExceptionsHold() {
+        CHECK.furnished(1);
+        CHECK.law("notice is 1 days; except 1/1: notice is 3 months + 4 days; except 1/1: notice is 9 days when flag;"
+                + " share is 5%; except 1/4: share is 7% when flag; except 1/4: share is 9%; except 1/4: share is 8% when flag;");
+        CHECK.value("notice", 5, 3, 4);
+        line(0, 1, 0, Check.NOTICE, 1, TODAY, NONE, 0, 0, 3, 4);
+        line(1, 2, 1, Check.NOTICE, 1, TODAY, 27, 1, 2, 3, 4);
+        line(2, 2, 1, Check.NOTICE, 1, TODAY, 27, 2, 1, 3, 4);
+        line(3, 2, 1, Check.NOTICE, 1, TODAY, 27, 3, 0, 0, 0);
+        CHECK.value("share", 3, 9, 100);
+        line(1, 2, 1, Check.SHARE, 1, TODAY, 27, 4, 2, 9, 100);
+        line(2, 2, 1, Check.SHARE, 1, TODAY, 27, 5, 0, 0, 0);
+        line(4, 2, 1, Check.SHARE, 1, TODAY, 27, 6, 1, 9, 100);
+        line(5, 2, 1, Check.SHARE, 1, TODAY, 27, 7, 0, 0, 0);
     }
 
     /** How deep exceptions go is counted anew for each TERM. */
@@ -562,6 +617,7 @@ public final class SentencesTest {
         CHECK.furnished(1);
         StatuteHouse house = CHECK.house;
         CHECK.law("kids is 1;");
+        CHECK.law("kids is 4;");
         CHECK.law("kids is 2;");
         CHECK.due("pass", house.pass(TODAY + 10), 0);
         CHECK.due("draft", CHECK.enact(1, "article 7 from 1990-01-01 { kids is 7; share is 7%; }"), 1);
@@ -569,7 +625,7 @@ public final class SentencesTest {
         CHECK.due("not there", CHECK.enact(1, "amend 1 { strike 1; }"), NONE);
         CHECK.due("not in law 0", CHECK.enact(0, "amend 7 { strike 1; }"), NONE);
         CHECK.due("refused", CHECK.enact(1, "article 7 { kids is 9; } article 8 { kids is }"), NONE);
-        CHECK.due("versions of law 0", house.count(8), 2);
+        CHECK.due("versions of law 0", house.count(8), 3);
         CHECK.due("versions of the draft", house.count(9), 2);
         CHECK.due("by the draft", house.reckon(1, Check.KIDS, 1, TODAY, TODAY + 10), COUNT);
         CHECK.due("as amended", house.value(0), 8);
@@ -601,6 +657,21 @@ public final class SentencesTest {
             CHECK.due("by the first", house.measured(2), want[i][0]);
             CHECK.due("more by the other", house.measured(10), want[i][1] - want[i][0]);
         }
+    }
+
+    /** A DRAFT that was told ahead of LAW 0, looked at as known in between. */
+    private static void draftsAsKnown() {
+        CHECK.furnished(1);
+        StatuteHouse house = CHECK.house;
+        String law = "article 1 from 1990-01-01 { tax is 3.00; } article 1 from 2000-02-20 { tax is 4.00; }";
+        CHECK.due("draft", CHECK.enact(1, law), 2);
+        CHECK.due("pass", house.pass(TODAY + 10), 0);
+        CHECK.due("law", CHECK.enact(0, law), 2);
+        CHECK.due("changes of the draft", house.changes(1, Check.TAX, 1, TODAY, TODAY + 99, TODAY + 9), 2);
+        CHECK.due("day", house.changed(1, 0), Check.day(2000, 2, 20));
+        CHECK.due("changes of law 0", house.changes(0, Check.TAX, 1, TODAY, TODAY + 99, TODAY + 9), 1);
+        CHECK.due("there was none", house.changed(0, 1), 1);
+        CHECK.due("there is one now", house.changes(0, Check.TAX, 1, TODAY, TODAY + 99, TODAY + 10), 2);
     }
 
     private static void kidsAsKnown(int known, long want) {
