@@ -1,5 +1,6 @@
 import java.util.ArrayList;
 import java.util.List;
+import java.util.Set;
 
 /**
  * Exs made by a fixed rule, most of them right, some with a TOKEN too many, too few or another one, held against a second
@@ -23,6 +24,12 @@ public final class GrammarTest {
     private static final String[] FACTS = {"flag", "n", "pay", "part", "birth", "gone", "odd", "parent", "mate"};
     private static final int[] OF_FACTS = {TRUTH, COUNT, MONEY, RATE, DATE, SPAN, REAL, PERSON, PERSON};
     private static final String[] TERMS = {"yes", "kids", "tax", "share", "when_due", "notice", "index", "head"};
+    /** The words quoted in I and II, the KINDS, modes, FUNCTIONS and SETS. */
+    private static final Set<String> RESERVED = Set.of(("easter plus minus first last of monday tuesday wednesday thursday friday"
+            + " saturday sunday fact term else joins table rate money truth count date span real person up down near even days"
+            + " months years true false article from amend strike put add except is when void or and not rem on day self state"
+            + " together level slices between over has withdrawn until if fullyears fullmonths daysto least most yearof monthof"
+            + " dayof weekday working due size root cents whole sum any all greatest smallest").split(" "));
     private static final Check CHECK = new Check();
     private static long state = 20261116;
 
@@ -366,7 +373,7 @@ public final class GrammarTest {
     }
 
     /** A PART as the second reader has it. */
-    private static final class Part {
+    static final class Part {
         final int kind;
         final int height;
         final int parts;
@@ -381,15 +388,15 @@ public final class GrammarTest {
     }
 
     /** Ends the reading of a text. */
-    private static final class Stop extends RuntimeException {
+    static final class Stop extends RuntimeException {
         private static final long serialVersionUID = 1L;
     }
 
     /** The grammar by descent; the FAULT stands in fault and place. */
-    private static final class Descent {
+    static class Descent {
         private final List<String> tokens;
         private final int[] places;
-        private int at;
+        int at;
         private int open;
         int fault;
         int place;
@@ -411,17 +418,22 @@ public final class GrammarTest {
             }
         }
 
-        private void stop(int kind, int where) {
+        /** Where the TOKEN that is here begins. */
+        int placeHere() {
+            return places[at];
+        }
+
+        void stop(int kind, int where) {
             fault = kind;
             place = where;
             throw new Stop();
         }
 
-        private String here() {
+        String here() {
             return at < tokens.size() ? tokens.get(at) : "";
         }
 
-        private boolean isHere(String... words) {
+        boolean isHere(String... words) {
             boolean found = false;
             for (String word : words) {
                 found |= here().equals(word);
@@ -429,7 +441,7 @@ public final class GrammarTest {
             return found;
         }
 
-        private void expect(String word) {
+        void expect(String word) {
             if (!here().equals(word)) {
                 stop(SYNTAX, places[at]);
             }
@@ -469,7 +481,7 @@ public final class GrammarTest {
             return part(where, KindsTest.ofSign(sign, left.kind, right.kind), written, left, right);
         }
 
-        private Part ex() {
+        Part ex() {
             Part left = both();
             while (isHere("or")) {
                 int where = places[at++];
@@ -594,7 +606,7 @@ public final class GrammarTest {
             return named(word, where);
         }
 
-        private static boolean isDate(String word) {
+        static boolean isDate(String word) {
             try {
                 java.time.LocalDate date = java.time.LocalDate.parse(word);
                 return date.getYear() >= 1900 && !date.isAfter(java.time.LocalDate.of(2079, 6, 6));
@@ -645,7 +657,8 @@ public final class GrammarTest {
                     open--;
                     return part(where, TRUTH, "has(" + fact + ")");
                 default:
-                    int kind = indexOf(FACTS, word) >= 0 ? OF_FACTS[indexOf(FACTS, word)] : indexOf(TERMS, word);
+                    int kind = indexOf(FACTS, word) >= 0 ? OF_FACTS[indexOf(FACTS, word)]
+                            : word.equals("whole_tax") ? MONEY : indexOf(TERMS, word);
                     name(kind >= 0);
                     return part(where, kind, word);
             }
@@ -660,11 +673,13 @@ public final class GrammarTest {
             return -1;
         }
 
+        static boolean isName(String word) {
+            return word.matches("[a-z][a-z0-9_]{0,11}") && !RESERVED.contains(word);
+        }
+
         /** A NAME must stand here; if it is a WORD at all, it may still not be one of those that are wanted. */
-        private void name(boolean fine) {
-            boolean word = here().matches("[a-z][a-z0-9_]*");
-            boolean known = indexOf(FACTS, here()) >= 0 || indexOf(TERMS, here()) >= 0 || isHere("fees", "slope", "none");
-            if (!word || !known) {
+        void name(boolean fine) {
+            if (!isName(here())) {
                 stop(SYNTAX, places[at]);
             }
             if (!fine) {

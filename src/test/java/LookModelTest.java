@@ -1,4 +1,5 @@
 import java.util.ArrayList;
+import java.util.Arrays;
 import java.util.HashSet;
 import java.util.List;
 import java.util.Set;
@@ -21,7 +22,9 @@ public final class LookModelTest {
     private static int rules;
     private static int rows;
     private static int versions;
-    private static final int[] SEEN = new int[8];
+    /** Of each DRAFT how many VERSIONS are there as forked. */
+    private static final int[] FORKED = new int[4];
+    private static final int[] SEEN = new int[9];
 
     public static void main(String[] args) {
         for (int trial = 0; trial < 400; trial++) {
@@ -63,6 +66,7 @@ public final class LookModelTest {
         rules = 0;
         rows = 0;
         versions = 0;
+        Arrays.fill(FORKED, 0);
     }
 
     private static int aDay() {
@@ -210,7 +214,26 @@ public final class LookModelTest {
         if (MAKER.next(4) == 0) {
             CHECK.due("fork", CHECK.house.fork(draft), laws.get(0).size());
             laws.set(draft, new ArrayList<>(laws.get(0)));
+            FORKED[draft] = laws.get(0).size();
         }
+        if (MAKER.next(3) == 0) {
+            int many = laws.get(draft).size() - FORKED[draft];
+            CHECK.due("adopt", CHECK.house.adopt(draft), many);
+            for (int i = FORKED[draft]; i < laws.get(draft).size(); i++) {
+                laws.get(0).add(adopted(laws.get(draft).get(i)));
+            }
+            FORKED[draft] = laws.get(draft).size();
+            SEEN[8] += many;
+        }
+    }
+
+    private static Model.Version adopted(Model.Version enacted) {
+        Model.Version version = new Model.Version();
+        version.article = enacted.article;
+        version.from = enacted.from;
+        version.told = today;
+        version.rules.addAll(enacted.rules);
+        return version;
     }
 
     private static String address(int article) {
