@@ -28,6 +28,7 @@ public final class SentencesTest {
         amendedRulesThemselves();
         articlesBeginAnew();
         realsOfRatesAndMoneys();
+        datesOfAnyCounts();
         onAnotherDay();
         ifWorksOneOut();
         setsThatStopLooking();
@@ -241,6 +242,26 @@ public final class SentencesTest {
                 CHECK.value("real(part)", REAL, Check.bits((double) over / (double) under), 0);
                 CHECK.value("real(pay)", REAL, Check.bits(cents / 100.0), 0);
             }
+        }
+    }
+
+    /** OVER without such a DAY, also where 32 bits would come round to one that there is. */
+    private static void datesOfAnyCounts() {
+        CHECK.furnished(1);
+        int round = (int) ((1L << 32) / 12);
+        long[] years = {1899, 2080, 0, -1, -2000, Integer.MIN_VALUE, Integer.MAX_VALUE, 1900 + round, 2000 + round, 2000 - round,
+            2000L - 2 * round, 1901 + 2L * round - Integer.MAX_VALUE, 1 << 30, -(1 << 30), 2000 + (1 << 30)};
+        long[] others = {0, 32, -1, Integer.MIN_VALUE, Integer.MAX_VALUE, 1 << 30, 1 + (1 << 30), 5 + round};
+        for (long year : years) {
+            CHECK.due("year", CHECK.house.suppose(1, Check.N, year, 0), 1);
+            for (int month = 1; month <= 12; month++) {
+                CHECK.fails("date(n, " + month + ", 1)", 8);
+            }
+        }
+        for (long other : others) {
+            CHECK.due("other", CHECK.house.suppose(1, Check.N, other, 0), 1);
+            CHECK.fails("date(2000, n, 1)", 8);
+            CHECK.fails("date(2000, 1, n)", 8);
         }
     }
 
