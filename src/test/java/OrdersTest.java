@@ -403,6 +403,11 @@ public final class OrdersTest {
         law(ahead(1197) + "kids is @10001 %;}", OUT_OF_RANGE);
         law(ahead(1197) + "kids is 1 @+ 1;}", ROOM);
         law(ahead(1195) + "kids is 1 @+ true;}", KIND);
+        law(ahead(1194) + "table slope {1.00: @10001 %;}}", OUT_OF_RANGE);
+        law(ahead(1194) + "table slope {1.00: 10000 @%;}}", ROOM);
+        law(ahead(1194) + "table slope {1.00: 10001 @;}}", SYNTAX);
+        law(ahead(1194) + "table fees {1.00: 1 @%;}}", ROOM);
+        law(ahead(1193) + "table fees {1.00: @1 %;}}", KIND);
         law(ahead(1198) + "}article @0 {}", OUT_OF_RANGE);
         law(ahead(1199) + "}@article 1 {}", ROOM);
         law(ahead(1198) + "}article @1 {}", ROOM);
